@@ -1,0 +1,101 @@
+/** Gives scripts to a CommandCore and tells every answer that is not the one that is due. */
+final class Check {
+    private static int wrong = 0;
+    private static int asked = 0;
+
+    CommandCore core = new CommandCore();
+
+    /** Ends the program; with 1 if an answer was not as due. */
+    static void finish() {
+        System.out.println(asked + " answers asked, " + wrong + " not as due");
+        System.exit(wrong == 0 && asked > 0 ? 0 : 1);
+    }
+
+    static void due(String what, Object got, Object want) {
+        asked++;
+        if (!got.equals(want)) {
+            wrong++;
+            System.out.println(what + " answered " + show(got) + ", due is " + show(want));
+        }
+    }
+
+    private static String show(Object value) {
+        return String.valueOf(value).replace("\n", "\\n");
+    }
+
+    /** An object as new. */
+    Check fresh() {
+        core = new CommandCore();
+        return this;
+    }
+
+    /** Writes a text on the tape; its characters are bytes. */
+    void tape(String text) {
+        int written = core.count(6);
+        for (int i = 0; i < text.length(); i += 20) {
+            int[] numbers = new int[5];
+            for (int k = 0; k < 20; k++) {
+                int c = i + k < text.length() ? text.charAt(i + k) & 255 : 0;
+                numbers[k / 4] = numbers[k / 4] << 8 | c;
+            }
+            core.feed(numbers[0], numbers[1], numbers[2], numbers[3], numbers[4]);
+        }
+        core.end(written + text.length());
+    }
+
+    int run(String script) {
+        tape(script);
+        return core.run();
+    }
+
+    String result() {
+        StringBuilder text = new StringBuilder();
+        for (int i = 0; i < core.size(); i++) {
+            text.append((char) core.result(i));
+        }
+        return text.toString();
+    }
+
+    String out() {
+        StringBuilder text = new StringBuilder();
+        for (int i = 0; i < core.outSize(); i++) {
+            text.append((char) core.out(i));
+        }
+        return text.toString();
+    }
+
+    /** The script ends with a code and a result. */
+    Check ends(String script, int code, String result) {
+        due("the code of: " + script, run(script), code);
+        due("the result of: " + script, result(), result);
+        return this;
+    }
+
+    Check gives(String script, String result) {
+        return ends(script, 0, result);
+    }
+
+    Check fails(String script, String message) {
+        return ends(script, 1, message);
+    }
+
+    /** The script meets a LIMIT. */
+    Check meets(String script, int limit) {
+        return ends(script, -limit, "");
+    }
+
+    Check prints(String script, String out) {
+        run(script);
+        due("OUT of: " + script, out(), out);
+        return this;
+    }
+
+    Check counts(int what, int number) {
+        due("count(" + what + ")", core.count(what), number);
+        return this;
+    }
+
+    static String times(String text, int number) {
+        return text.repeat(number);
+    }
+}
