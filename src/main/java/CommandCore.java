@@ -199,9 +199,9 @@ public final class CommandCore {
             return Integer.compare(size, other.size);
         }
 
-        /** Where the byte is, from a place on, or -1. */
-        int find(int c, int start) {
-            for (int i = Math.max(0, start); i < size; i++) {
+        /** Where the byte is, from one place up to another, or -1. */
+        int find(int c, int start, int stop) {
+            for (int i = Math.max(0, start); i < stop && i < size; i++) {
                 if ((bytes[from + i] & 255) == c) {
                     return i;
                 }
@@ -642,8 +642,7 @@ public final class CommandCore {
 
         /** The text of a braced word, of which only \ and 10 are not what they are. */
         Text braced(Text text, int first, int behind) {
-            int slash = text.find('\\', first);
-            if (slash < 0 || slash >= behind) {
+            if (text.find('\\', first, behind) < 0) {
                 return text.part(first, behind);
             }
             int outer = begin();
@@ -708,8 +707,7 @@ public final class CommandCore {
         }
 
         private Text unescaped(Text list, int first, int behind) {
-            int slash = list.find('\\', first);
-            if (slash < 0 || slash >= behind) {
+            if (list.find('\\', first, behind) < 0) {
                 return list.part(first, behind);
             }
             int outer = begin();
@@ -949,6 +947,11 @@ public final class CommandCore {
             this.name = name;
         }
 
+        /** Whether the first argument is a list that is taken apart ahead of all else. */
+        static boolean isOnElements(int kind) {
+            return kind >= LINDEX && kind <= LSEARCH || kind == LASSIGN || kind == JOIN;
+        }
+
         boolean takes(int given) {
             return kind >= 0 && kind < LEAST.length && kind < MOST.length
                     && given >= LEAST[kind] && (MOST[kind] < 0 || given <= MOST[kind]);
@@ -1045,7 +1048,7 @@ public final class CommandCore {
         boolean name(Text told) {
             array = told;
             key = null;
-            int open = told.at(told.size - 1) == ')' ? told.find('(', 0) : -1;
+            int open = told.at(told.size - 1) == ')' ? told.find('(', 0, told.size) : -1;
             if (open >= 0) {
                 array = told.part(0, open);
                 key = told.part(open + 1, told.size - 1);
@@ -1387,7 +1390,7 @@ public final class CommandCore {
 
         private int variable(int pos, int depth) {
             if (text.at(pos) == '{') {
-                int close = text.find('}', pos);
+                int close = text.find('}', pos, text.size);
                 return close < 0 ? lacks("missing brace") : close + 1;
             }
             int end = text.behindName(pos);
@@ -2105,6 +2108,9 @@ public final class CommandCore {
                 case Command.GLOBAL:
                     global();
                     break;
+                case Command.LSORT:
+                    lsort();
+                    break;
                 case Command.SPLIT:
                     split();
                     break;
@@ -2145,9 +2151,9 @@ public final class CommandCore {
             }
         }
 
-        /** Performs a command on the elements of a list, which is its first argument or lsort's last. */
+        /** Performs a command on the elements of a list, which is its first argument. */
         void performOnElements(int kind) {
-            if (!scribe.split(word(kind == Command.LSORT ? given : 1))) {
+            if (!scribe.split(word(1))) {
                 return;
             }
             switch (kind) {
@@ -2165,9 +2171,6 @@ public final class CommandCore {
                     break;
                 case Command.LSEARCH:
                     answer(scribe.digits(scribe.placeOf(word(2))));
-                    break;
-                case Command.LSORT:
-                    lsort();
                     break;
                 case Command.LASSIGN:
                     lassign();
@@ -2415,6 +2418,9 @@ public final class CommandCore {
                 integer = integer || tellsInteger;
                 decreasing = decreasing || !tellsInteger;
             }
+            if (!scribe.split(word(given))) {
+                return;
+            }
             int number = scribe.elementCount;
             long[] keys = integer ? new long[number] : null;
             for (int i = 0; i < number && keys != null; i++) {
@@ -2505,7 +2511,7 @@ public final class CommandCore {
         }
 
         private boolean splitsAt(int c, Text marks) {
-            return given == 1 ? isWhite(c) : marks.find(c, 0) >= 0;
+            return given == 1 ? isWhite(c) : marks.find(c, 0, marks.size) >= 0;
         }
 
         /** Which option the first argument is; -1, and an error, if it is none or has others behind it. */
@@ -2567,9 +2573,7 @@ public final class CommandCore {
             int first = placeOf(from, text.size);
             int last = scribe.code == 0 ? placeOf(to, text.size) : 0;
             if (scribe.code == 0 && first <= last && last >= 0) {
-                // An index tells one byte, which is not there ahead of the first.
-                boolean none = first < 0 && given == 3;
-                answer(none ? scribe.empty : text.part(first, last + 1));
+                answer(text.part(first, last + 1));
             }
         }
 
@@ -3223,8 +3227,7 @@ public final class CommandCore {
                 case Command.PROCEDURE:
                     return Task.PROCEDURE;
                 default:
-                    boolean onElements = kind >= Command.LINDEX && kind <= Command.LASSIGN;
-                    return onElements || kind == Command.JOIN ? Task.ON_ELEMENTS : Task.BASIC;
+                    return Command.isOnElements(kind) ? Task.ON_ELEMENTS : Task.BASIC;
             }
         }
 
