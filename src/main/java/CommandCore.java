@@ -884,17 +884,18 @@ public final class CommandCore {
     /** A command of the core, or a procedure. */
     private static final class Command {
         static final String NAMES = "set unset incr append lappend proc return break continue error catch eval expr if while for foreach switch upvar uplevel global list lindex llength lrange lreverse lsearch lsort lassign concat join split string array info rename puts subst";
+        /** The least arguments of each, as the names go. */
         static final int[] LEAST = {
             1, 0, 1, 1, 1, 3, 0, 0, 0, 1,
-            1, 1, 1, 0, 2, 4, 3, 2, 2, 1, 0, 0, 2,
-            1, 3, 1, 2, 1, 1, 0, 1, 1, 1, 1,
-            1, 2, 1, 1};
-        /** -1: any number. */
+            1, 1, 1, 0, 2, 4, 3, 2, 2, 1, 0,
+            0, 2, 1, 3, 1, 2, 1, 1, 0, 1, 1,
+            1, 1, 1, 2, 1, 1};
+        /** The most arguments; -1: any number. */
         static final int[] MOST = {
             2, -1, 2, -1, -1, 3, 3, 0, 0, 1,
-            2, -1, -1, -1, 2, 4, -1, 2, -1, -1, -1, -1, 2,
-            1, 3, 1, 2, 3, -1, -1, 2, 2, -1, -1,
-            -1, 2, 2, 1};
+            2, -1, -1, -1, 2, 4, -1, 2, -1, -1, -1,
+            -1, 2, 1, 3, 1, 2, 3, -1, -1, 2, 2,
+            -1, -1, -1, 2, 2, 1};
         static final int SET = 0;
         static final int UNSET = 1;
         static final int INCR = 2;
@@ -2813,7 +2814,7 @@ public final class CommandCore {
         // Each evaluation has at most one task beside its own: a word, an operand or a command.
         private static final int MOST_TASKS = 2 * MOST_EVALUATING + 2;
         // Far more than WORK lets a run do.
-        private static final int MOST_STEPS = 10000000;
+        private static final int MOST_STEPS = 1000000;
 
         final Scribe scribe = new Scribe();
         private final Reader reader = new Reader();
