@@ -54,7 +54,7 @@ public final class CodeTest {
         check.gives("proc p {args a} {list $args $a}; p 1 2", "1 2").gives("proc p {{args z}} {list $args}; list [p] [p y]", "z y");
         check.gives("proc p {{a 1} args} {list $a $args}; list [p] [p 2] [p 2 3]", "{1 {}} {2 {}} {2 3}");
         check.gives("proc p {a a} {list $a}; p 1 2", "2").gives("proc p { a  \"b c\" } {list $a $b}; p 1", "1 c");
-        check.gives("proc list args {return mine}; list a", "mine").counts(4, 39);
+        check.gives("proc list args {return mine}; list a", "mine").counts(4, 39).gives("proc set args {return other}; set a", "other").counts(4, 39);
         check.fresh().gives("proc p {} {proc p {} {list new}; list old}; list [p] [p]", "old new");
         check.gives("proc p {} {rename p {}; list gone}; p", "gone").fails("p", "no such command: p");
         check.gives("proc {} {} {list empty}; {}", "empty").gives("proc {a b} {} {list blank}; {a b}", "blank");
@@ -124,6 +124,7 @@ public final class CodeTest {
     private static void rounds() {
         Check check = new Check();
         check.prints("foreach a {1 {2 3} {}} {puts <$a>}", "<1>\n<2 3>\n<>\n").gives("foreach a {} {error e}", "").fails("set b", "no variable b");
+        check.counts(5, 1).gives("foreach a {p q r} {}; set a", "r").counts(5, 1);
         check.prints("foreach {a b} {1 2 3} {puts $a,$b}", "1,2\n3,\n").prints("foreach a {1 2 3} {b c} {x y} {puts $a$b$c}", "1xy\n2\n3\n");
         check.prints("foreach a {} b {1 2} {puts <$a>$b}", "<>1\n<>2\n").prints("foreach {m(x) m(y)} {1 2} {puts [array get m]}", "x 1 y 2\n");
         check.prints("foreach a {1 2 3 4} {if {$a == 2} continue; if {$a == 4} break; puts $a}", "1\n3\n").gives("set a", "4");
@@ -151,7 +152,8 @@ public final class CodeTest {
         check.gives("set a 5; set m(x) 6; subst {$a [list b c]\\x41 \\$a $m(x) ${a} {$a} \"; ] #}", "5 b cA $a 6 5 {5} \"; ] #");
         check.gives("subst {}", "").gives("subst {a\nb}", "a\nb").gives("subst \"a\\\\\\n  b\"", "a b").gives("subst \\\\", "\\").gives("subst {$}", "$");
         check.gives("set v {[list x] $a}; subst $v", "x 5").gives("subst {$v}", "[list x] $a");
-        check.fails("subst {a [list}", "missing bracket").fails("subst {$m(}", "missing parenthesis").fails("subst \"\\${a\"", "missing brace").fails("subst {[list \"]}", "missing quote");
+        check.fails("subst {a [list}", "missing bracket").fails("subst \\x00\\[", "missing bracket").gives("subst {a\\x00b}", "a\u0000b");
+        check.fails("subst {[list {a}b]}", "more behind brace").fails("subst {$m(}", "missing parenthesis").fails("subst \"\\${a\"", "missing brace").fails("subst {[list \"]}", "missing quote");
         check.fails("subst {$none}", "no variable none").ends("subst {a [break]}", 3, "").ends("subst {[return x]}", 2, "x").fails("subst {[error e]}", "e");
         check.prints("catch {subst {[puts a] [list}}", "").prints("catch {subst {[puts a] $none [puts b]}}", "a\n");
         check.fails("subst", "wrong arguments: subst").fails("subst a b", "wrong arguments: subst");

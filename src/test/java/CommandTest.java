@@ -62,7 +62,7 @@ public final class CommandTest {
     private static void printing() {
         Check check = new Check();
         check.prints("puts a; puts {b c}; puts -nonewline d; puts {}; puts -nonewline; puts -nonewline {}", "a\nb c\nd\n-nonewline\n");
-        check.gives("puts a", "").fails("puts -nonewlin a", "wrong arguments: puts");
+        check.gives("puts a", "").fails("puts -nonewlin a", "wrong arguments: puts").fails("puts +nonewline a", "wrong arguments: puts");
         check.prints("proc p {} {puts in; error e}; puts out; p; puts not", "out\nin\n").prints("catch {puts caught; error e}", "caught\n");
         check.prints("puts \"\\x00\\xff\\n\"", "\u0000\u00ff\n\n");
     }

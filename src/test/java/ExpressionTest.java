@@ -39,6 +39,7 @@ public final class ExpressionTest {
         gives("\"x $a [list y]\"", "x 5 y");
         gives("{x $a}", "x $a");
         gives("\"\"", "");
+        CHECK.fresh().gives("expr \"{a\\\\\\n  b}\"", "a b");
         gives("{a\\\n  b}", "a b");
         gives("\" 0x10 \"", "16");
         gives("true", "true");
@@ -99,6 +100,11 @@ public final class ExpressionTest {
         gives("100/10/5", "2");
         gives("100/10*5", "50");
         gives("2*3%4", "2");
+        gives("7%4%2", "1");
+        gives("7%4*2", "6");
+        gives("9/4/2", "1");
+        gives("8-4-2", "2");
+        gives("64>>2>>1", "8");
         gives("1<<2+1", "8");
         gives("16>>1<<2", "32");
         gives("1<2<3", "1");
@@ -112,6 +118,15 @@ public final class ExpressionTest {
         gives("2|1&&0", "0");
         gives("1||1&&0", "1");
         gives("0&&1||1", "1");
+        gives("0&&1|1", "0");
+        gives("0&&1^1", "0");
+        gives("1|1^1", "1");
+        gives("1^1&0", "1");
+        gives("1&1==0", "0");
+        gives("3==3<1", "0");
+        gives("1<1<<1", "1");
+        gives("1<<1+1", "4");
+        gives("1+2%2", "1");
         gives("-2+3", "1");
         gives("!0+1", "2");
         gives("!(0+1)", "0");
@@ -161,6 +176,12 @@ public final class ExpressionTest {
         gives("!5", "0");
         gives("!0", "1");
         gives("!true", "0");
+        gives("!(1-1)", "1");
+        gives("!(3-1)", "0");
+        gives("!!5", "1");
+        gives("(1-1)||(2-2)", "0");
+        gives("(2-1)&&(3-1)", "1");
+        gives("(1-1)?5:6", "6");
         gives("!false", "1");
         gives("!\" 0x0 \"", "1");
         gives("5&&true", "1");
@@ -213,6 +234,12 @@ public final class ExpressionTest {
         gives("max(1?2:3,0)", "2");
         gives("-abs(-3)", "-3");
         gives("2*max(1,2)+1", "5");
+        StringBuilder row = new StringBuilder("50");
+        for (int i = 1; i < 200; i++) {
+            row.append(',').append((i * 37 + 50) % 200);
+        }
+        gives("max(" + row + ")", "199");
+        gives("min(" + row + ")+100*max(" + row + ")", "19900");
         fails("abs(\"x\")", "no whole: x");
         fails("min(1,\"y\",\"z\")", "no whole: y");
         fails("min(\"x\",[error late])", "late");
@@ -225,7 +252,7 @@ public final class ExpressionTest {
             "1 ~ 2", "1 ** 2", "2 *", "1 eq", "eq 1", "1 eq1", "1 eqx 2", "1 EQ 1", "1eq 1", "abs", "abs 1", "abs()", "abs(1,2)", "min()",
             "min(1,)", "min(,1)", "min(1 2)", "max(1", "1,2", "(1,2)", "abs(1", "$", "$ a", "$+", "#", "1;2", "\\1", "'a'", "}", "]",
             "1 ]", "&& 1", "1 && && 1", "!", "- - -", "1 -", "1 \"a\"", "1 [list]", "1 $a", "1 {a}", "\"a\" \"b\"", "min(1,2",
-            "1 ? 2 : 3 : 4", "absx(1)", "abs_(1)", "1 in", "in {a}"};
+            "1 ? 2 : 3 : 4", "frue", "zbs(1)", "nin(1,2)", "absx(1)", "abs_(1)", "1 in", "in {a}"};
         for (String expression : none) {
             CHECK.fresh().fails("set a 5; catch [list expr [subst {" + escaped(expression) + "}]] m; error $m",
                     "no expression: " + expression.trim());

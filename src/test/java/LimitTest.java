@@ -99,6 +99,7 @@ public final class LimitTest {
         check.meets("join [list $a $b] {}", 2).fresh();
         check.gives("set a [string repeat a 1999]; set b [string repeat b 2000]; string length [list $a $b]", "4000");
         check.gives("string length [concat $a $b]", "4000").gives("string length $a$b", "3999").gives("string length x$a$b", "4000").meets("string length xx$a$b", 2);
+        check.gives("string length $a${b}x", "4000").meets("string length $a${b}xx", 2).meets("string length \"$a${b}x\\x41\"", 2);
         check.meets("set d [string repeat x 3990]; $d", 2).gives("string length $d", "3990").meets("set $d$d", 2).meets("error [set none$d]", 2);
         check.fails("set d [string repeat x 3983]; $d", "no such command: " + Check.times("x", 3983)).meets("set e x$d; $e", 2);
         check.fresh().meets("set s [string repeat {; } 1500]; split $s {}", 2).meets("list [string repeat \\{ 2001]", 2);
@@ -137,6 +138,7 @@ public final class LimitTest {
         Check check = new Check();
         check.gives("list", "").counts(2, 1).gives("list [list]", "{}").counts(2, 2).gives("set m(1) 1; list $m(1)", "1").counts(2, 2);
         check.gives("list $m([list $m(1)])", "1").counts(2, 4).gives("expr {$m(1)}", "1").counts(2, 3).gives("expr 1", "1").counts(2, 2).gives("subst {a}", "a").counts(2, 1);
+        check.gives("set x \"a\"; set x \"b\"; subst a; subst [list b]; catch {subst {$none}}; catch {expr {$none}}; catch {list $m($none)}; list [list c]", "c").counts(2, 3);
         // A procedure's level here has three in evaluation: its body, eval's script and that of if.
         check.fresh().gives("proc f n {eval {if {$n > 1} {f [expr {$n - 1}]} else {list end}}}; f 32", "end").counts(2, 97).counts(3, 32);
         check.gives("f 33", "end").counts(2, 100).meets("f 34", 4).counts(2, 100).counts(3, 33);

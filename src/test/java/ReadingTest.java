@@ -20,7 +20,7 @@ public final class ReadingTest {
         check.gives("", "").gives(" \t\n;; \\\n ; ", "");
         check.gives("set a 1;set b 2\nset c 3", "3");
         check.gives("  list  a\t b \\\n  c ;", "a b c");
-        check.gives("list a\\\nb", "a b");
+        check.gives("list a\\\nb", "a b").gives("\\\nlist c", "c").gives(";\\\n\\\nlist d", "d").gives("list e;\\\n", "e").gives("\\\n# note", "");
         check.gives("list a\n", "a").gives("list a;\n\n;", "a");
         // Bytes 11, 12 and 13 are WHITE, but no BLANKS.
         check.fails("list\r", "no such command: list\r");
@@ -47,7 +47,7 @@ public final class ReadingTest {
         check.gives("set a {a {b} c}", "a {b} c").gives("set a {}", "");
         check.gives("set a {$x [y] \\n \" ; \n}", "$x [y] \\n \" ; \n");
         check.gives("set a {\\}\\{}", "\\}\\{");
-        check.gives("set a {a\\\n \t b}", "a b");
+        check.gives("set a {a\\\n \t b}", "a b").gives("set a {a\\\nb\\\n\\\n}", "a b  ");
         check.gives("set a {a\\\\\n b}", "a\\\\\n b");
         check.gives("set a {\\\\}", "\\\\");
         check.gives("set a x{b}c", "x{b}c").gives("set a b}", "b}");
@@ -90,16 +90,17 @@ public final class ReadingTest {
     private static void escapes() {
         Check check = new Check();
         check.gives("set a \\a\\b\\f\\n\\r\\t\\v", "\u0007\b\f\n\r\t\u000b");
-        check.gives("set a \\101\\60\\7x\\0608", "A0\u0007x08");
+        check.gives("set a \\101\\60\\7x\\0608\\1017", "A0\u0007x08A7");
         check.gives("set a \\400\\777\\377", "\u0000\u00ff\u00ff").gives("set a \\8\\9", "89");
         check.gives("set a \\x41\\x4\\x414\\x\\xg\\xAf", "A\u0004A4xxg\u00af");
         check.gives("set a \\\\\\$b\\[c\\]\\{\\;\\ d\\#", "\\$b[c]{; d#");
-        check.gives("set a \\", "\\").gives("set a b\\", "b\\");
+        check.gives("set a \\", "\\").gives("set a b\\", "b\\").gives("set a \\\u0000b\\\u00ff", "\u0000b\u00ff");
         check.gives("set a \"b\\\n \t\n c\"", "b \n c");
     }
 
     private static void variables() {
         Check check = new Check();
+        check.gives("set azAZ09_ v; list $azAZ09_ $azAZ09_- $azAZ09_\\x60", "v v- v`").gives("list $`$@$/$:", "{$`$@$/$:}");
         check.gives("set a 1; set b_2 3; list $a$b_2 $a.x $a-$a", "13 1.x 1-1");
         check.gives("set m(k) v; set m(k\\ l) w; set i k; list $m(k) $m($i) $m([set i]) $m(k\\x20l) $m($i l)", "v v v w w");
         check.gives("set {m(] ;\n\")} x; set y $m(] ;\n\")", "x");
@@ -118,11 +119,15 @@ public final class ReadingTest {
         check.gives("set a [list b\nlist c\n]", "c").gives("set a [ ]", "");
         check.gives("set a x[list {]}]y", "x{]}y");
         check.gives("set a [set b [set c d]][set b]", "dd");
+        check.ends("set m(1) 1; list $m([break])", 3, "").ends("list a$m(x[error e])b", 1, "e").fails("list \"$m($none)\"", "no variable none");
+        check.fails("list $m($m(2))", "no element m(2)").ends("subst {$m([return r])}", 2, "r").ends("expr {$m([continue])}", 4, "");
         check.ends("list [break] [error x]", 3, "").ends("set a [return -code 5 x]", 2, "x");
     }
 
     private static void errors() {
         Check check = new Check();
+        check.fails("list a\\\n{b", "missing brace").fails("list [list a\\\n\"b]", "missing quote");
+        check.fails("list [\u0000]", "no such command: \u0000");
         check.fails("set a {b", "missing brace").fails("set a ${b", "missing brace");
         check.fails("set a {b\\}", "missing brace").fails("set a {b\\", "missing brace");
         check.fails("set a [b", "missing bracket").fails("set a [b \"c]", "missing quote");

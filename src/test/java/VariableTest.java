@@ -57,6 +57,7 @@ public final class VariableTest {
 
     private static void incrementing() {
         Check check = new Check();
+        check.gives("incr k(x); incr k(x) 2; incr k(x) 3", "6").gives("append k(y) a; append k(y) b; lappend k(y) c", "ab c");
         check.gives("incr a", "1").gives("incr a 5", "6").gives("incr a -10", "-4").gives("incr m(x) 3", "3").gives("incr m(y)", "1");
         check.gives("unset a m(x); list [incr a] [incr m(x) 7]", "1 7").gives("array names m", "x y");
         check.fails("set t x; incr t", "no whole: x").fails("incr m(x) { }", "no whole:  ").gives("set m(x)", "7");
@@ -126,6 +127,9 @@ public final class VariableTest {
         check.gives("upvar 0 un1 un2 un3 un1; set un2 a; set un3 b; list $un1 $un2", "b a");
         check.gives("set arr(1) 2; catch {upvar 0 k arr} m; set m", "arr is there already");
         check.gives("unset arr; upvar 0 k arr; set arr", "1");
+        check.fresh().gives("set t 1; upvar 0 t l1; set n2 2; upvar 0 t l3; set n4 4; set n5 5; set n6 6; upvar 0 n4 l7; set n8 8; set n9 9", "9");
+        check.fails("upvar 0 t n2", "n2 is there already").gives("upvar 0 n5 l1 n6 l3 n2 l7; list $l1 $l3 $l7", "5 6 2");
+        check.fails("upvar 0 t n4", "n4 is there already").fails("upvar 0 t n8", "n8 is there already").gives("upvar 0 t l1; set l1", "1");
     }
 
     private static void linkedElements() {
