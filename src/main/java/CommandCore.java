@@ -378,6 +378,9 @@ public final class CommandCore {
         /** The elements of the list that was taken apart last. */
         Text[] elements = new Text[64];
         int elementCount;
+        /** Where the element of a list that was found last begins, and where it is over. */
+        private int elementFrom;
+        private int elementTo;
         /** Texts that are being made, one behind the other; the last one begins at the mark. */
         private byte[] bytes = new byte[1024];
         int length;
@@ -471,49 +474,94 @@ public final class CommandCore {
         }
 
         void add(Text text) {
-            if (length - mark + text.size > LONGEST) {
+            addPart(text, 0, text.size);
+        }
+
+        /** Adds a piece that lies within the text. */
+        private void addPart(Text text, int first, int behind) {
+            int size = behind - first;
+            if (length - mark + size > LONGEST) {
                 limit = limit == 0 ? 2 : limit;
                 return;
             }
-            if (length + text.size > bytes.length) {
-                bytes = Arrays.copyOf(bytes, bytes.length * 2 + text.size);
+            if (length + size > bytes.length) {
+                bytes = Arrays.copyOf(bytes, bytes.length * 2 + size);
             }
-            System.arraycopy(text.bytes, text.from, bytes, length, text.size);
-            length += text.size;
+            System.arraycopy(text.bytes, text.from + first, bytes, length, size);
+            length += size;
         }
 
         /** Adds an element to the list that is being made. */
         void addElement(Text text) {
+            int start = beginElement();
+            add(text);
+            quote(start);
+        }
+
+        /** Adds all elements of a text that is a list; no texts are made of them. */
+        void addElements(Text list) {
+            int pos = list.behindWhite(0);
+            for (int turn = 0; turn < LONGEST && pos < list.size && limit == 0; turn++) {
+                boolean braced = list.at(pos) == '{';
+                pos = nextElement(list, pos);
+                if (pos < 0) {
+                    return;
+                }
+                int start = beginElement();
+                if (braced) {
+                    addPart(list, elementFrom, elementTo);
+                } else {
+                    addUnescaped(list, elementFrom, elementTo);
+                }
+                quote(start);
+            }
+        }
+
+        /** Puts a blank behind what the list has; the answer is where its next element begins. */
+        private int beginElement() {
             if (length > mark) {
                 add(' ');
             }
-            if (text.size == 0) {
-                add('{');
-                add('}');
-            } else if (isPlain(text)) {
-                add(text);
-            } else if (hasPairs(text)) {
-                add('{');
-                add(text);
-                add('}');
-            } else {
-                addEscaped(text);
-            }
+            return length;
         }
 
-        private boolean isPlain(Text text) {
-            for (int i = 0; i < text.size; i++) {
-                if (isSpecial(text.at(i))) {
-                    return false;
+        /** Gives what was added from a place on the form that an element has in a list. */
+        private void quote(int start) {
+            int size = length - start;
+            int specials = 0;
+            for (int i = start; i < length; i++) {
+                if (isSpecial(bytes[i]) || i == start && bytes[i] == '#') {
+                    specials++;
                 }
             }
-            return text.at(0) != '#';
+            boolean braced = size == 0 || specials > 0 && hasPairs(start);
+            int more = braced ? 2 : specials;
+            for (int i = 0; i < more; i++) {
+                add('}');
+            }
+            if (limit != 0) {
+                return;
+            }
+            if (braced) {
+                System.arraycopy(bytes, start, bytes, start + 1, size);
+                bytes[start] = '{';
+                return;
+            }
+            // From the right, as the bytes move there; where none is to be moved more it is done.
+            int to = length - 1;
+            for (int from = start + size - 1; from >= start && to > from; from--) {
+                int c = bytes[from];
+                bytes[to--] = (byte) (c >= 9 && c <= 13 ? "tnvfr".charAt(c - 9) : c);
+                if (isSpecial(c) || from == start && c == '#') {
+                    bytes[to--] = '\\';
+                }
+            }
         }
 
-        private boolean hasPairs(Text text) {
+        private boolean hasPairs(int start) {
             int open = 0;
-            for (int i = 0; i < text.size; i++) {
-                int c = text.at(i);
+            for (int i = start; i < length; i++) {
+                int c = bytes[i];
                 if (c == '{') {
                     open++;
                 } else if (c == '}') {
@@ -524,20 +572,6 @@ public final class CommandCore {
                 }
             }
             return open == 0;
-        }
-
-        private void addEscaped(Text text) {
-            for (int i = 0; i < text.size; i++) {
-                int c = text.at(i);
-                if (isSpecial(c) || i == 0 && c == '#') {
-                    add('\\');
-                }
-                if (c >= 9 && c <= 13) {
-                    add("tnvfr".charAt(c - 9));
-                } else {
-                    add(c);
-                }
-            }
         }
 
         /** A list of the texts from one place of a row up to another. */
@@ -670,47 +704,52 @@ public final class CommandCore {
             elementCount = 0;
             int pos = list.behindWhite(0);
             for (int turn = 0; turn < LONGEST && pos < list.size; turn++) {
-                int c = list.at(pos);
-                int end;
-                if (c == '{') {
-                    end = list.closingBrace(pos + 1);
-                    keep(list.part(pos + 1, end));
+                boolean braced = list.at(pos) == '{';
+                pos = nextElement(list, pos);
+                if (pos < 0) {
+                    return fail("no list", empty, null, "");
+                }
+                if (braced || list.find('\\', elementFrom, elementTo) < 0) {
+                    keep(list.part(elementFrom, elementTo));
                 } else {
-                    boolean quoted = c == '"';
-                    int first = quoted ? pos + 1 : pos;
-                    end = elementEnd(list, first, quoted);
-                    keep(unescaped(list, first, end));
-                }
-                if (end < 0) {
-                    return fail("no list", empty, null, "");
-                }
-                int behind = c == '{' || c == '"' ? end + 1 : end;
-                pos = list.behindWhite(behind);
-                if (pos == behind && pos < list.size) {
-                    return fail("no list", empty, null, "");
+                    int outer = begin();
+                    addUnescaped(list, elementFrom, elementTo);
+                    keep(take(outer));
                 }
             }
             return true;
         }
 
-        /** The end of an element that is not braced; -1 if it should have a quote there. */
-        private int elementEnd(Text list, int first, boolean quoted) {
-            int pos = first;
-            while (pos < list.size) {
-                int c = list.at(pos);
-                if (quoted ? c == '"' : isWhite(c)) {
-                    return pos;
-                }
-                pos = c == '\\' ? list.behindEscape(pos) : pos + 1;
+        /** Whether the text is a list, else it is an error; nothing is kept, and nothing made. */
+        boolean wantList(Text list) {
+            int pos = list.behindWhite(0);
+            for (int turn = 0; turn < LONGEST && pos >= 0 && pos < list.size; turn++) {
+                pos = nextElement(list, pos);
             }
-            return quoted ? -1 : list.size;
+            return pos >= 0 || fail("no list", empty, null, "");
         }
 
-        private Text unescaped(Text list, int first, int behind) {
-            if (list.find('\\', first, behind) < 0) {
-                return list.part(first, behind);
+        /** Finds the element there; the answer is where the next one is, or -1 for no list. */
+        private int nextElement(Text list, int pos) {
+            int c = list.at(pos);
+            boolean quoted = c == '"';
+            boolean marked = quoted || c == '{';
+            elementFrom = marked ? pos + 1 : pos;
+            int end = c == '{' ? list.closingBrace(elementFrom) : elementFrom;
+            while (c != '{' && end < list.size
+                    && !(quoted ? list.at(end) == '"' : isWhite(list.at(end)))) {
+                end = list.at(end) == '\\' ? list.behindEscape(end) : end + 1;
             }
-            int outer = begin();
+            elementTo = end;
+            if (end < 0 || quoted && end >= list.size) {
+                return -1;
+            }
+            int behind = marked ? end + 1 : end;
+            int next = list.behindWhite(behind);
+            return next > behind || next >= list.size ? next : -1;
+        }
+
+        private void addUnescaped(Text list, int first, int behind) {
             int pos = first;
             while (pos < behind) {
                 if (list.at(pos) == '\\') {
@@ -722,7 +761,6 @@ public final class CommandCore {
                     pos++;
                 }
             }
-            return take(outer);
         }
 
         private void keep(Text element) {
@@ -745,57 +783,57 @@ public final class CommandCore {
         }
     }
 
-    /** What a name or an element stands for. */
+    /** A variable that is an array or was linked; for all others a text in a row is enough. */
     private static final class Variable {
+        private final boolean ofArray;
+        /** Null while it is UNSET, or an array. */
+        Text text;
+        boolean isArray;
+        Names elements;
+
+        Variable(boolean ofArray, Text text) {
+            this.ofArray = ofArray;
+            this.text = text;
+        }
+
+        /** Makes it an array, if it may be one; an element is never an array. */
+        boolean becomeArray() {
+            if (text == null && !ofArray) {
+                if (elements == null) {
+                    elements = new Names(true);
+                }
+                isArray = true;
+            }
+            return isArray;
+        }
+
+        void unset() {
+            if (isArray) {
+                elements.clear();
+            }
+            isArray = false;
+            text = null;
+        }
+    }
+
+    /**
+     * The names of a frame, or the elements of an array, in the order in which they became known.
+     * WORK does not grow by each name that is written, so that this makes as few objects as it can:
+     * a variable has one of its own only where it is an array or is linked.
+     */
+    private static final class Names {
+        static final int MOST = 100;
         static final int UNSET = 0;
         static final int WRITTEN = 1;
         static final int ARRAY = 2;
 
         private final boolean ofArray;
-        int state = UNSET;
-        Text text;
-        Names elements;
-
-        Variable(boolean ofArray) {
-            this.ofArray = ofArray;
-        }
-
-        void write(Text value) {
-            state = WRITTEN;
-            text = value;
-        }
-
-        /** Makes it an array, if it may be one; an element is never an array. */
-        boolean becomeArray() {
-            if (state == UNSET && !ofArray) {
-                if (elements == null) {
-                    elements = new Names(true);
-                }
-                elements.known = 0;
-                state = ARRAY;
-            }
-            return state == ARRAY;
-        }
-
-        void unset() {
-            if (state == ARRAY) {
-                for (int i = 0; i < elements.known; i++) {
-                    elements.variables[i].state = UNSET;
-                }
-                elements.known = 0;
-            }
-            state = UNSET;
-        }
-    }
-
-    /** The names of a frame, or the elements of an array, in the order in which they became known. */
-    private static final class Names {
-        static final int MOST = 100;
-
-        private final boolean ofArray;
-        Text[] names = new Text[4];
-        Variable[] variables = new Variable[4];
-        private boolean[] links = new boolean[4];
+        Text[] names = new Text[8];
+        /** The texts of those that have no object; null for one that is UNSET. */
+        private Text[] texts = new Text[8];
+        /** Those that have an object, and which of these are links; null until there is one. */
+        private Variable[] variables;
+        private boolean[] links;
         int known;
         int level;
         Names caller;
@@ -819,61 +857,120 @@ public final class CommandCore {
             return -1;
         }
 
-        Variable variableAt(int i) {
-            return i >= 0 && i < known ? variables[i] : null;
+        private Variable objectAt(int i) {
+            return variables != null && i >= 0 && i < known ? variables[i] : null;
         }
 
-        /** The variable of a name that was not known; null if a LIMIT is met. */
-        Variable admit(Text name, Scribe scribe) {
+        int stateAt(int i) {
+            if (i < 0 || i >= known) {
+                return UNSET;
+            }
+            Variable object = objectAt(i);
+            if (object != null && object.isArray) {
+                return ARRAY;
+            }
+            return (object != null ? object.text : texts[i]) == null ? UNSET : WRITTEN;
+        }
+
+        /** The text there, which is not UNSET and no array. */
+        Text textAt(int i) {
+            Variable object = objectAt(i);
+            return object != null ? object.text : texts[i];
+        }
+
+        /** The elements of the array there; null if there is none. */
+        Names elementsAt(int i) {
+            Variable object = objectAt(i);
+            return object != null && object.isArray ? object.elements : null;
+        }
+
+        void writeAt(int i, Text value) {
+            Variable object = objectAt(i);
+            if (object != null) {
+                object.text = value;
+            } else {
+                texts[i] = value;
+            }
+        }
+
+        void unsetAt(int i) {
+            Variable object = objectAt(i);
+            if (object != null) {
+                object.unset();
+            } else {
+                texts[i] = null;
+            }
+        }
+
+        /** All are UNSET and not known any more; those that are linked live on by themselves. */
+        void clear() {
+            for (int i = 0; i < known && variables != null; i++) {
+                if (variables[i] != null) {
+                    variables[i].text = null;
+                }
+            }
+            known = 0;
+        }
+
+        /** The variable there as an object. */
+        Variable variableAt(int i) {
+            if (variables == null) {
+                variables = new Variable[MOST];
+            }
+            if (variables[i] == null) {
+                variables[i] = new Variable(ofArray, texts[i]);
+            }
+            return variables[i];
+        }
+
+        /** The place of a name that was not known; -1 if a LIMIT is met. */
+        int admit(Text name, Scribe scribe) {
             if (known >= MOST) {
                 scribe.stop(3);
-                return null;
+                return -1;
             }
             makeRoom();
-            Variable old = variables[known];
-            // A frame's own variables are used again by the next call: nothing outlives the frame
-            // that could be linked to them. Elements may live on by links, so they are not.
-            if (old == null || ofArray || links[known]) {
-                variables[known] = new Variable(ofArray);
-            } else {
-                old.state = Variable.UNSET;
-            }
-            links[known] = false;
             names[known] = name;
+            texts[known] = null;
+            if (variables != null) {
+                variables[known] = null;
+            }
+            if (links != null) {
+                links[known] = false;
+            }
             known++;
-            return variables[known - 1];
+            return known - 1;
         }
 
         private void makeRoom() {
             if (known >= names.length) {
-                Text[] moreNames = new Text[known * 2];
-                Variable[] moreVariables = new Variable[known * 2];
-                boolean[] moreLinks = new boolean[known * 2];
+                Text[] moreNames = new Text[MOST];
+                Text[] moreTexts = new Text[MOST];
                 System.arraycopy(names, 0, moreNames, 0, known);
-                System.arraycopy(variables, 0, moreVariables, 0, known);
-                System.arraycopy(links, 0, moreLinks, 0, known);
+                System.arraycopy(texts, 0, moreTexts, 0, known);
                 names = moreNames;
-                variables = moreVariables;
-                links = moreLinks;
+                texts = moreTexts;
             }
         }
 
         /** Makes the name a link, if it may be one. */
         boolean link(Text name, Variable other, Scribe scribe) {
+            if (links == null) {
+                links = new boolean[MOST];
+            }
             int i = indexOf(name);
             if (i < 0) {
-                if (known >= MOST) {
-                    scribe.stop(3);
-                    return false;
-                }
-                makeRoom();
-                i = known;
-                known++;
-                names[i] = name;
-            } else if (variables[i] == other) {
+                i = admit(name, scribe);
+            } else if (objectAt(i) == other) {
                 return scribe.fail("", name, null, " is itself");
-            } else if (!links[i] && variables[i].state != Variable.UNSET) {
+            } else if (!links[i] && stateAt(i) != UNSET) {
                 return scribe.fail("", name, null, " is there already");
+            }
+            if (i < 0) {
+                return false;
+            }
+            if (variables == null) {
+                variables = new Variable[MOST];
             }
             variables[i] = other;
             links[i] = true;
@@ -989,8 +1086,11 @@ public final class CommandCore {
         /** The frame at hand. */
         Names frame;
         /** The name at hand, split; the key is null if it is no element's. */
-        private Text array;
-        private Text key;
+        Text array;
+        Text key;
+        /** Where the variable was found: in a frame or an array, and at which place. */
+        private Names where;
+        private int place;
 
         Store(Scribe scribe) {
             this.scribe = scribe;
@@ -998,6 +1098,7 @@ public final class CommandCore {
                 frames[i] = new Names(false);
             }
             frame = frames[0];
+            where = frame;
             int start = 0;
             for (int i = 0; i <= Command.NAMES.length(); i++) {
                 if (i == Command.NAMES.length() || Command.NAMES.charAt(i) == ' ') {
@@ -1063,93 +1164,105 @@ public final class CommandCore {
             key = elementName;
         }
 
-        /** The variable that has a text (or, where it may be, is an array); null and an error else. */
-        private Variable present(boolean mayBeArray) {
-            Variable found = frame.variableAt(frame.indexOf(array));
-            if (found == null || found.state == Variable.UNSET) {
-                scribe.fail("no variable ", array, key, "");
-                return null;
+        /** Finds the variable at hand; the answer is its state. */
+        int seek() {
+            where = frame;
+            place = where.indexOf(array);
+            int state = where.stateAt(place);
+            if (key == null || state == Names.UNSET) {
+                return state;
             }
-            if (key == null) {
-                if (found.state == Variable.ARRAY && !mayBeArray) {
-                    scribe.fail("", array, null, " is an array");
-                    return null;
-                }
-                return found;
+            Names elements = where.elementsAt(place);
+            if (elements == null) {
+                return Names.UNSET;
             }
-            if (found.state != Variable.ARRAY) {
-                scribe.fail("", array, null, " is no array");
-                return null;
-            }
-            Variable element = found.elements.variableAt(found.elements.indexOf(key));
-            if (element == null || element.state == Variable.UNSET) {
-                scribe.fail("no element ", array, key, "");
-                return null;
-            }
-            return element;
+            where = elements;
+            place = where.indexOf(key);
+            return where.stateAt(place);
         }
 
-        /** The variable at hand if it is not UNSET, else null. */
-        Variable seek() {
-            Variable found = frame.variableAt(frame.indexOf(array));
-            if (found != null && key != null) {
-                Names elements = found.elements;
-                found = found.state == Variable.ARRAY ? elements.variableAt(elements.indexOf(key)) : null;
+        /** Finds it, if it has a text (or, where it may be, is an array); else it is an error. */
+        private boolean find(boolean mayBeArray) {
+            where = frame;
+            place = where.indexOf(array);
+            int state = where.stateAt(place);
+            if (state == Names.UNSET) {
+                return scribe.fail("no variable ", array, key, "");
             }
-            return found == null || found.state == Variable.UNSET ? null : found;
+            if (key == null) {
+                return state == Names.WRITTEN || mayBeArray
+                        || scribe.fail("", array, null, " is an array");
+            }
+            Names elements = where.elementsAt(place);
+            if (elements == null) {
+                return scribe.fail("", array, null, " is no array");
+            }
+            where = elements;
+            place = where.indexOf(key);
+            return where.stateAt(place) != Names.UNSET || scribe.fail("no element ", array, key, "");
+        }
+
+        /** The elements of the array at hand; null if it is none. */
+        Names elements() {
+            return frame.elementsAt(frame.indexOf(array));
         }
 
         /** The value of the name at hand; null, and an error, if it has none. */
         Text read() {
-            Variable found = present(false);
-            return found == null ? null : found.text;
+            return find(false) ? where.textAt(place) : null;
         }
 
         /** The value, or another one where it, or an element's array, is not known or UNSET. */
         Text readOr(Text other) {
-            Variable holder = frame.variableAt(frame.indexOf(array));
-            if (holder == null || holder.state == Variable.UNSET) {
-                return other;
-            }
-            if (key != null && holder.state == Variable.ARRAY && seek() == null) {
-                return other;
-            }
-            Variable found = present(false);
-            return found == null ? null : found.text;
+            int holder = frame.stateAt(frame.indexOf(array));
+            boolean none = holder == Names.UNSET
+                    || holder == Names.ARRAY && key != null && seek() == Names.UNSET;
+            return none ? other : find(false) ? where.textAt(place) : null;
         }
 
         boolean unset() {
-            Variable found = present(true);
-            if (found != null) {
-                found.unset();
+            if (!find(true)) {
+                return false;
             }
-            return found != null;
+            where.unsetAt(place);
+            return true;
         }
 
-        /** The variable at hand, known from now on; null, and an error or LIMIT, if it can't be. */
-        Variable obtain(Names where) {
-            int place = where.indexOf(array);
-            Variable found = place < 0 ? where.admit(array, scribe) : where.variables[place];
-            if (found == null || key == null) {
-                return found;
+        /** Makes the variable at hand known to a frame; false, and an error or LIMIT, if it can't be. */
+        boolean obtain(Names in) {
+            where = in;
+            place = in.indexOf(array);
+            if (place < 0) {
+                place = in.admit(array, scribe);
             }
-            if (!found.becomeArray()) {
-                scribe.fail("", array, null, " is no array");
-                return null;
+            if (place < 0 || key == null) {
+                return place >= 0;
             }
-            int inner = found.elements.indexOf(key);
-            return inner < 0 ? found.elements.admit(key, scribe) : found.elements.variables[inner];
+            Variable holder = in.variableAt(place);
+            if (!holder.becomeArray()) {
+                return scribe.fail("", array, null, " is no array");
+            }
+            where = holder.elements;
+            place = where.indexOf(key);
+            if (place < 0) {
+                place = where.admit(key, scribe);
+            }
+            return place >= 0;
+        }
+
+        /** The variable that was obtained last. */
+        Variable obtained() {
+            return where.variableAt(place);
         }
 
         boolean write(Text value) {
-            Variable found = obtain(frame);
-            if (found == null) {
+            if (!obtain(frame)) {
                 return false;
             }
-            if (found.state == Variable.ARRAY) {
+            if (where.stateAt(place) == Names.ARRAY) {
                 return scribe.fail("", array, null, " is an array");
             }
-            found.write(value);
+            where.writeAt(place, value);
             return true;
         }
 
@@ -2246,13 +2359,12 @@ public final class CommandCore {
         private void lappend() {
             store.name(word(1));
             Text value = store.readOr(scribe.empty);
-            if (value == null || !scribe.split(value)) {
+            if (value == null || !scribe.wantList(value)) {
                 return;
             }
+            // WORK does not grow by the value, so no texts are made of its elements.
             int outer = scribe.begin();
-            for (int i = 0; i < scribe.elementCount; i++) {
-                scribe.addElement(scribe.elements[i]);
-            }
+            scribe.addElements(value);
             for (int i = 2; i <= given; i++) {
                 scribe.addElement(word(i));
             }
@@ -2356,8 +2468,7 @@ public final class CommandCore {
                 return scribe.fail("", name, null, " is no name");
             }
             store.name(other);
-            Variable found = store.obtain(target);
-            return found != null && store.frame.link(name, found, scribe);
+            return store.obtain(target) && store.frame.link(name, store.obtained(), scribe);
         }
 
         /** The place an INDEX tells among so many; below 0, or beyond them, if there is none such. */
@@ -2619,24 +2730,23 @@ public final class CommandCore {
 
         private void array() {
             int which = option(ARRAY_OPTIONS, ARRAY_ARGUMENTS);
-            Variable found = which < 0 || store.name(word(2)) ? null : store.seek();
-            boolean there = found != null && found.state == Variable.ARRAY;
+            Names elements = which < 0 || store.name(word(2)) ? null : store.elements();
             switch (which) {
                 case 0:
-                    answer(scribe.digits(there ? 1 : 0));
+                    answer(scribe.digits(elements != null ? 1 : 0));
                     break;
                 case 1:
-                    answer(scribe.digits(there ? arraySize(found.elements) : 0));
+                    answer(scribe.digits(elements != null ? arraySize(elements) : 0));
                     break;
                 case 2:
                 case 3:
-                    if (there) {
-                        listArray(found.elements, which == 3);
+                    if (elements != null) {
+                        listArray(elements, which == 3);
                     }
                     break;
                 case 5:
-                    if (there) {
-                        found.unset();
+                    if (elements != null) {
+                        store.unset();
                     }
                     break;
                 default:
@@ -2647,7 +2757,7 @@ public final class CommandCore {
         private static int arraySize(Names elements) {
             int number = 0;
             for (int i = 0; i < elements.known; i++) {
-                if (elements.variables[i].state != Variable.UNSET) {
+                if (elements.stateAt(i) != Names.UNSET) {
                     number++;
                 }
             }
@@ -2657,10 +2767,10 @@ public final class CommandCore {
         private void listArray(Names elements, boolean withValues) {
             int outer = scribe.begin();
             for (int i = 0; i < elements.known && scribe.limit == 0; i++) {
-                if (elements.variables[i].state != Variable.UNSET) {
+                if (elements.stateAt(i) != Names.UNSET) {
                     scribe.addElement(elements.names[i]);
                     if (withValues) {
-                        scribe.addElement(elements.variables[i].text);
+                        scribe.addElement(elements.textAt(i));
                     }
                 }
             }
@@ -2691,7 +2801,7 @@ public final class CommandCore {
             int which = option(INFO_OPTIONS, INFO_ARGUMENTS);
             if (which == 0) {
                 store.name(word(2));
-                answer(scribe.digits(store.seek() != null ? 1 : 0));
+                answer(scribe.digits(store.seek() != Names.UNSET ? 1 : 0));
             } else if (which == 1) {
                 answer(scribe.digits(store.frame.level));
             } else if (which > 1) {
@@ -3280,9 +3390,8 @@ public final class CommandCore {
                 }
             }
             if (task.phase == Task.PART && scribe.limit == 0) {
-                Text made = scribe.take(scribe.mark);
-                if (scribe.spend(made.size)) {
-                    scribe.succeed(made);
+                if (scribe.spend(scribe.length - scribe.mark)) {
+                    scribe.succeed(scribe.take(scribe.mark));
                     leaveParts(task);
                 }
             }
@@ -3379,7 +3488,7 @@ public final class CommandCore {
                     fine = scribe.fail("no names");
                 }
                 task.plan[3 * i + 1] = scribe.elementCount;
-                fine = fine && pushElements() && scribe.split(word(task, 2 * i + 2));
+                fine = fine && pushNames() && scribe.split(word(task, 2 * i + 2));
                 task.plan[3 * i + 2] = scribe.elementCount;
                 fine = fine && pushElements();
                 if (!fine) {
@@ -3389,6 +3498,16 @@ public final class CommandCore {
             }
             task.index = 0;
             task.phase = Task.ROUND;
+        }
+
+        /** Pushes names, each as two words, so that they need not be split in each round. */
+        private boolean pushNames() {
+            for (int i = 0; i < scribe.elementCount; i++) {
+                store.name(scribe.elements[i]);
+                pushWord(store.array);
+                pushWord(store.key);
+            }
+            return true;
         }
 
         private boolean pushElements() {
@@ -3610,8 +3729,8 @@ public final class CommandCore {
                 for (int i = 0; i < names; i++) {
                     int element = task.index * names + i;
                     boolean there = element < task.plan[pair + 2];
-                    store.name(words[first + i]);
-                    if (!store.write(there ? words[first + names + element] : scribe.empty)) {
+                    store.nameParts(words[first + 2 * i], words[first + 2 * i + 1]);
+                    if (!store.write(there ? words[first + 2 * names + element] : scribe.empty)) {
                         taskCount--;
                         return;
                     }
