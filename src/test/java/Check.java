@@ -2,12 +2,23 @@
 final class Check {
     private static int wrong = 0;
     private static int asked = 0;
+    /** The sentence of the document that is being tested, and how many there were. */
+    private static String sentence = "";
+    private static int sentences = 0;
 
     CommandCore core = new CommandCore();
 
+    /** Begins the test of a sentence, in the document's own words, with a new object. */
+    static Check of(String words) {
+        sentence = words;
+        sentences++;
+        return new Check();
+    }
+
     /** Ends the program; with 1 if an answer was not as due. */
     static void finish() {
-        System.out.println(asked + " answers asked, " + wrong + " not as due");
+        String held = sentences > 0 ? ", of " + sentences + " sentences" : "";
+        System.out.println(asked + " answers asked" + held + ", " + wrong + " not as due");
         System.exit(wrong == 0 && asked > 0 ? 0 : 1);
     }
 
@@ -16,6 +27,9 @@ final class Check {
         if (!got.equals(want)) {
             wrong++;
             System.out.println(what + " answered " + show(got) + ", due is " + show(want));
+            if (!sentence.isEmpty()) {
+                System.out.println("    the sentence: " + sentence);
+            }
         }
     }
 
@@ -95,7 +109,29 @@ final class Check {
         return this;
     }
 
+    /** What count(1), count(2) and count(3) answer. */
+    Check countsOfRun(int commands, int evaluations, int calls) {
+        return counts(1, commands).counts(2, evaluations).counts(3, calls);
+    }
+
+    /** WORK grows by so much with the script. */
+    Check costs(String script, int work) {
+        int before = core.count(0);
+        run(script);
+        due("WORK of: " + script, core.count(0) - before, work);
+        return this;
+    }
+
     static String times(String text, int number) {
         return text.repeat(number);
+    }
+
+    /** A word of a script that stands for a text of any bytes. */
+    static String quoted(String text) {
+        StringBuilder word = new StringBuilder("\"");
+        for (int i = 0; i < text.length(); i++) {
+            word.append(String.format("\\x%02x", (int) text.charAt(i)));
+        }
+        return word.append('"').toString();
     }
 }

@@ -50,7 +50,8 @@ public final class ExpressionTest {
         gives("$a+[set a 6]", "11");
         fails("$none", "no variable none");
         fails("[error x]", "x");
-        CHECK.fresh().gives("expr 1 + 2", "3").gives("expr { 1 } {+} { 2 }", "3").fails("expr", "wrong arguments: expr");
+        CHECK.fresh().gives("expr 1 + 2", "3").gives("expr { 1 } {+} { 2 }", "3").fails("expr",
+                "wrong arguments: expr");
         CHECK.fresh().ends("expr {[break] + $none}", 3, "").ends("expr {[return x]}", 2, "x");
     }
 
@@ -200,7 +201,8 @@ public final class ExpressionTest {
         fails("!\"TRUE\"", "no truth: TRUE");
         fails("!\" true\"", "no truth:  true");
         fails("$t?1:2", "no truth: text");
-        CHECK.fresh().gives("if {\" 1 \"} {list y}", "y").gives("if true {list y}", "y").gives("if false {list y} {list n}", "n");
+        CHECK.fresh().gives("if {\" 1 \"} {list y}", "y").gives("if true {list y}",
+                "y").gives("if false {list y} {list n}", "n");
         CHECK.fails("if {\"yes\"} {list}", "no truth: yes").fails("while x {}", "no expression: x");
         CHECK.fails("while {\"\"} {}", "no truth: ").fails("for {} {\"a b\"} {} {}", "no truth: a b");
     }
@@ -246,12 +248,18 @@ public final class ExpressionTest {
     }
 
     private static void refused() {
-        String[] none = {"", "  ", "1 2", "1+", "+", "*1", "(1", "1)", "()", "((1)", "1 ? 2", "1 : 2", "1 ? : 2", "1 ? 2 :",
-            "? 1 : 2", "1 ? (2 : 3)", "(1 ? 2) : 3", "a", "abc(1)", "true1", "truex", "true(1)", "1true", "12a", "0x", "0xg", "1_0",
-            "_1", "9223372036854775808", "-9223372036854775808", "0x8000000000000000", "1.5", "1 = 1", "1 === 1", "1 <> 2", "1 ! 2",
-            "1 ~ 2", "1 ** 2", "2 *", "1 eq", "eq 1", "1 eq1", "1 eqx 2", "1 EQ 1", "1eq 1", "abs", "abs 1", "abs()", "abs(1,2)", "min()",
-            "min(1,)", "min(,1)", "min(1 2)", "max(1", "1,2", "(1,2)", "abs(1", "$", "$ a", "$+", "#", "1;2", "\\1", "'a'", "}", "]",
-            "1 ]", "&& 1", "1 && && 1", "!", "- - -", "1 -", "1 \"a\"", "1 [list]", "1 $a", "1 {a}", "\"a\" \"b\"", "min(1,2",
+        String[] none = {"", "  ", "1 2", "1+", "+", "*1", "(1", "1)", "()", "((1)", "1 ? 2", "1 : 2", "1 ? : 2",
+                "1 ? 2 :",
+            "? 1 : 2", "1 ? (2 : 3)", "(1 ? 2) : 3", "a", "abc(1)", "true1", "truex", "true(1)", "1true", "12a", "0x",
+                    "0xg", "1_0",
+            "_1", "9223372036854775808", "-9223372036854775808", "0x8000000000000000", "1.5", "1 = 1", "1 === 1",
+                    "1 <> 2", "1 ! 2",
+            "1 ~ 2", "1 ** 2", "2 *", "1 eq", "eq 1", "1 eq1", "1 eqx 2", "1 EQ 1", "1eq 1", "abs", "abs 1", "abs()",
+                    "abs(1,2)", "min()",
+            "min(1,)", "min(,1)", "min(1 2)", "max(1", "1,2", "(1,2)", "abs(1", "$", "$ a", "$+", "#", "1;2", "\\1",
+                    "'a'", "}", "]",
+            "1 ]", "&& 1", "1 && && 1", "!", "- - -", "1 -", "1 \"a\"", "1 [list]", "1 $a", "1 {a}", "\"a\" \"b\"",
+                    "min(1,2",
             "1 ? 2 : 3 : 4", "frue", "zbs(1)", "nin(1,2)", "absx(1)", "abs_(1)", "1 in", "in {a}"};
         for (String expression : none) {
             CHECK.fresh().fails("set a 5; catch [list expr [subst {" + escaped(expression) + "}]] m; error $m",

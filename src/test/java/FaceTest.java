@@ -41,7 +41,8 @@ public final class FaceTest {
         Check.due("count(6)", core.count(6), 20);
         Check.due("end(0)", core.end(0), 0);
         for (int i = 1; i <= 200; i++) {
-            Check.due("feed number " + i, core.feed(0x20202020, 0x20202020, 0x20202020, 0x20202020, 0x20202020), 20 * i);
+            Check.due("feed number " + i, core.feed(0x20202020, 0x20202020, 0x20202020, 0x20202020, 0x20202020),
+                    20 * i);
         }
         Check.due("feed over 4000", core.feed(0, 0, 0, 0, 0), -1);
         Check.due("count(6) behind that", core.count(6), 4000);

@@ -79,7 +79,8 @@ public final class LimitTest {
         check.counts(0, last);
         check.meets("set x; list", 1);
         check.counts(1, 1);
-        Check.due("WORK grows up to what would be more", check.core.count(0) > last && check.core.count(0) <= 150000, true);
+        Check.due("WORK grows up to what would be more", check.core.count(0) > last && check.core.count(0) <= 150000,
+                true);
         int spare = 150000 - check.core.count(0);
         StringBuilder script = new StringBuilder();
         while (script.length() < spare - 5 && script.length() < 3900) {
@@ -92,17 +93,26 @@ public final class LimitTest {
     private static void longTexts() {
         Check check = new Check();
         check.gives("set a [string repeat a 2000]; set b [string repeat b 2001]; list", "");
-        check.gives("string length [string repeat a 4000]", "4000").meets("string repeat a 4001", 2).meets("string repeat aaa 9223372036854775807", 2);
-        check.meets("list $a$b", 2).meets("set c \"$a$b\"", 2).meets("list $m($a$b)", 2).meets("expr {\"$a$b\"}", 2).meets("subst {$a$b}", 2);
-        check.meets("list $a $b", 2).meets("concat $a $b", 2).meets("eval $a $b", 2).meets("expr $a $b", 2).meets("uplevel #0 $a $b", 2);
-        check.meets("append a $b", 2).gives("string length $a", "2000").meets("lappend a $b", 2).gives("llength $a", "1");
+        check.gives("string length [string repeat a 4000]", "4000").meets("string repeat a 4001", 2)
+                .meets("string repeat aaa 9223372036854775807", 2);
+        check.meets("list $a$b", 2).meets("set c \"$a$b\"", 2).meets("list $m($a$b)", 2)
+                .meets("expr {\"$a$b\"}", 2).meets("subst {$a$b}", 2);
+        check.meets("list $a $b", 2).meets("concat $a $b", 2).meets("eval $a $b", 2)
+                .meets("expr $a $b", 2).meets("uplevel #0 $a $b", 2);
+        check.meets("append a $b", 2).gives("string length $a", "2000").meets("lappend a $b", 2)
+                .gives("llength $a", "1");
         check.meets("join [list $a $b] {}", 2).fresh();
         check.gives("set a [string repeat a 1999]; set b [string repeat b 2000]; string length [list $a $b]", "4000");
-        check.gives("string length [concat $a $b]", "4000").gives("string length $a$b", "3999").gives("string length x$a$b", "4000").meets("string length xx$a$b", 2);
-        check.gives("string length $a${b}x", "4000").meets("string length $a${b}xx", 2).meets("string length \"$a${b}x\\x41\"", 2);
-        check.meets("set d [string repeat x 3990]; $d", 2).gives("string length $d", "3990").meets("set $d$d", 2).meets("error [set none$d]", 2);
-        check.fails("set d [string repeat x 3983]; $d", "no such command: " + Check.times("x", 3983)).meets("set e x$d; $e", 2);
-        check.fresh().meets("set s [string repeat {; } 1500]; split $s {}", 2).meets("list [string repeat \\{ 2001]", 2);
+        check.gives("string length [concat $a $b]", "4000").gives("string length $a$b", "3999")
+                .gives("string length x$a$b", "4000").meets("string length xx$a$b", 2);
+        check.gives("string length $a${b}x", "4000").meets("string length $a${b}xx", 2)
+                .meets("string length \"$a${b}x\\x41\"", 2);
+        check.meets("set d [string repeat x 3990]; $d", 2).gives("string length $d", "3990")
+                .meets("set $d$d", 2).meets("error [set none$d]", 2);
+        check.fails("set d [string repeat x 3983]; $d", "no such command: " + Check.times("x", 3983))
+                .meets("set e x$d; $e", 2);
+        check.fresh().meets("set s [string repeat {; } 1500]; split $s {}", 2)
+                .meets("list [string repeat \\{ 2001]", 2);
         check.fresh().meets("set x [string repeat a 3000]; list $x$x[puts no]", 2);
         check.due("OUT behind the part that was too long", check.out(), "");
         check.meets("list $x[puts yes]$x", 2);
@@ -113,70 +123,98 @@ public final class LimitTest {
     private static void manyNames() {
         Check check = new Check();
         check.gives("for {set i 0} {$i < 99} {incr i} {set v$i 1}", "").counts(5, 100);
-        check.meets("set one 1", 3).counts(5, 100).gives("set v5 2", "2").meets("set one(1) 1", 3).meets("upvar 0 one v7", 3).meets("upvar 0 v1 one", 3);
-        check.fails("set one", "no variable one").gives("info exists one", "0").gives("unset v5; set v5 3", "3").gives("proc p {} {set one 1}; p", "1");
-        check.fresh().gives("for {set i 0} {$i < 100} {incr i} {set m($i) 1}; array size m", "100").meets("set m(x) 1", 3).meets("upvar 0 m(x) y", 3);
-        check.gives("unset m(5); array size m", "99").meets("set m(x) 1", 3).gives("set m(5) 1", "1").gives("unset m; set m(x) 1; array size m", "1");
-        check.fresh().gives("for {set i 0} {$i < 112} {incr i} {proc p$i {} {}}", "").counts(4, 150).meets("proc q {} {}", 3).counts(4, 150);
-        check.gives("proc p1 {} {list new}; p1", "new").gives("rename p2 q", "").gives("rename q {}; proc r {} {}", "").meets("proc s {} {}", 3);
+        check.meets("set one 1", 3).counts(5, 100).gives("set v5 2", "2").meets("set one(1) 1", 3)
+                .meets("upvar 0 one v7", 3).meets("upvar 0 v1 one", 3);
+        check.fails("set one", "no variable one").gives("info exists one", "0")
+                .gives("unset v5; set v5 3", "3").gives("proc p {} {set one 1}; p", "1");
+        check.fresh().gives("for {set i 0} {$i < 100} {incr i} {set m($i) 1}; array size m", "100")
+                .meets("set m(x) 1", 3).meets("upvar 0 m(x) y", 3);
+        check.gives("unset m(5); array size m", "99").meets("set m(x) 1", 3)
+                .gives("set m(5) 1", "1").gives("unset m; set m(x) 1; array size m", "1");
+        check.fresh().gives("for {set i 0} {$i < 112} {incr i} {proc p$i {} {}}", "").counts(4, 150)
+                .meets("proc q {} {}", 3).counts(4, 150);
+        check.gives("proc p1 {} {list new}; p1", "new").gives("rename p2 q", "")
+                .gives("rename q {}; proc r {} {}", "").meets("proc s {} {}", 3);
         check.fails("proc s {{a b c}} {}", "no parameters: a b c");
         StringBuilder params = new StringBuilder();
         for (int i = 0; i < 100; i++) {
             params.append("{a").append(i).append(" 1} ");
         }
-        check.fresh().gives("proc p {" + params + "} {info exists a99}; p", "1").meets("proc q {" + params + "b} {}; q {*}[string repeat {1 } 101]", 3).counts(3, 1);
+        check.fresh().gives("proc p {" + params + "} {info exists a99}; p", "1")
+                .meets("proc q {" + params + "b} {}; q {*}[string repeat {1 } 101]", 3)
+                .counts(3, 1);
     }
 
     private static void openCalls() {
         Check check = new Check();
         check.gives("proc f n {if {$n > 1} {f [expr {$n - 1}]} else {info level}}; f 40", "40").counts(3, 40);
         check.meets("f 41", 4).counts(3, 40).gives("info level", "0").gives("f 3", "3").counts(3, 3);
-        check.gives("proc g n {if {$n > 1} {uplevel #0 [list g [expr {$n - 1}]]} else {info level}}; g 25", "1").counts(3, 25);
+        check.gives("proc g n {if {$n > 1} {uplevel #0 [list g [expr {$n - 1}]]} else {info level}}; g 25", "1")
+                .counts(3, 25);
     }
 
     private static void evaluations() {
         Check check = new Check();
-        check.gives("list", "").counts(2, 1).gives("list [list]", "{}").counts(2, 2).gives("set m(1) 1; list $m(1)", "1").counts(2, 2);
-        check.gives("list $m([list $m(1)])", "1").counts(2, 4).gives("expr {$m(1)}", "1").counts(2, 3).gives("expr 1", "1").counts(2, 2).gives("subst {a}", "a").counts(2, 1);
-        check.gives("set x \"a\"; set x \"b\"; subst a; subst [list b]; catch {subst {$none}}; catch {expr {$none}}; catch {list $m($none)}; list [list c]", "c").counts(2, 3);
+        check.gives("list", "").counts(2, 1).gives("list [list]", "{}").counts(2, 2)
+                .gives("set m(1) 1; list $m(1)", "1").counts(2, 2);
+        check.gives("list $m([list $m(1)])", "1").counts(2, 4).gives("expr {$m(1)}", "1")
+                .counts(2, 3).gives("expr 1", "1").counts(2, 2).gives("subst {a}", "a")
+                .counts(2, 1);
+        check.gives("set x \"a\"; set x \"b\"; subst a; subst [list b]; catch {subst {$none}}; catch {expr {$none}}; catch {list $m($none)}; list [list c]", "c")
+                .counts(2, 3);
         // A procedure's level here has three in evaluation: its body, eval's script and that of if.
-        check.fresh().gives("proc f n {eval {if {$n > 1} {f [expr {$n - 1}]} else {list end}}}; f 32", "end").counts(2, 97).counts(3, 32);
+        check.fresh()
+                .gives("proc f n {eval {if {$n > 1} {f [expr {$n - 1}]} else {list end}}}; f 32", "end")
+                .counts(2, 97).counts(3, 32);
         check.gives("f 33", "end").counts(2, 100).meets("f 34", 4).counts(2, 100).counts(3, 33);
         // Here the deepest are a KEY, and an expression.
-        check.fresh().gives("set m(x) y; proc f n {eval {if {$n > 1} {f [expr {$n - 1}]} else {global m; list $m(x)}}}; f 32", "y").counts(2, 98);
+        check.fresh()
+                .gives("set m(x) y; proc f n {eval {if {$n > 1} {f [expr {$n - 1}]} else {global m; list $m(x)}}}; f 32", "y")
+                .counts(2, 98);
         check.meets("f 33", 4).counts(2, 100);
-        check.gives("proc g n {eval {if {$n > 1} {g [expr {$n - 1}]} else {expr 1}}}; g 32", "1").counts(2, 98).meets("g 33", 4).counts(2, 100);
+        check.gives("proc g n {eval {if {$n > 1} {g [expr {$n - 1}]} else {expr 1}}}; g 32", "1")
+                .counts(2, 98).meets("g 33", 4).counts(2, 100);
     }
 
     private static void nestedReading() {
         Check check = new Check();
         String open = Check.times("[list ", 20);
         String close = Check.times("]", 20);
-        check.gives("set a " + open + "x" + close, "x").meets("set a " + open + "[list x]" + close, 4).meets("set a {*}" + open + "[", 4);
+        check.gives("set a " + open + "x" + close, "x")
+                .meets("set a " + open + "[list x]" + close, 4).meets("set a {*}" + open + "[", 4);
         check.gives("subst {" + open + "x" + close + "}", "x").meets("subst {" + open + "[list x]" + close + "}", 4);
         check.gives("expr {" + open + "1" + close + "}", "1").meets("expr {" + open + "[list 1]" + close + "}", 4);
         check.gives("set m(x) x; set a " + Check.times("$m(", 20) + "x" + Check.times(")", 20), "x");
         check.meets("set a " + Check.times("$m(", 21) + "x" + Check.times(")", 21), 4);
         check.meets("set a " + Check.times("[list $m(", 10) + "$m(x)" + Check.times(")]", 10), 4);
         check.gives("set a " + Check.times("[list $m(", 10) + "x" + Check.times(")]", 10), "x");
-        check.gives("set a {" + Check.times("[", 50) + "}", Check.times("[", 50)).gives("list " + Check.times("[list]", 30), "{}");
-        check.prints("puts a; set b " + open + "[list x]" + close, "a\n").fails("list {a}b " + open + "[list", "more behind brace");
+        check.gives("set a {" + Check.times("[", 50) + "}", Check.times("[", 50))
+                .gives("list " + Check.times("[list]", 30), "{}");
+        check.prints("puts a; set b " + open + "[list x]" + close, "a\n")
+                .fails("list {a}b " + open + "[list", "more behind brace");
     }
 
     private static void nestedExpressions() {
         Check check = new Check();
-        check.gives("expr {" + Check.times("(", 20) + "1" + Check.times(")", 20) + "}", "1").meets("expr {" + Check.times("(", 21) + "1" + Check.times(")", 21) + "}", 4);
+        check.gives("expr {" + Check.times("(", 20) + "1" + Check.times(")", 20) + "}", "1")
+                .meets("expr {" + Check.times("(", 21) + "1" + Check.times(")", 21) + "}", 4);
         check.gives("expr {" + Check.times("-", 20) + "1}", "1").meets("expr {" + Check.times("!", 21) + "1}", 4);
-        check.gives("expr {" + Check.times("-1+", 50) + "0}", "-50").gives("expr {" + Check.times("(1)+", 50) + "0}", "50");
+        check.gives("expr {" + Check.times("-1+", 50) + "0}", "-50")
+                .gives("expr {" + Check.times("(1)+", 50) + "0}", "50");
         check.gives("expr {" + Check.times("0?1:", 20) + "2}", "2").meets("expr {" + Check.times("0?1:", 21) + "2}", 4);
-        check.gives("expr {" + Check.times("1?", 20) + "2" + Check.times(":3", 20) + "}", "2").meets("expr {" + Check.times("1?", 21) + "2" + Check.times(":3", 21) + "}", 4);
-        check.gives("expr {" + Check.times("abs(", 20) + "1" + Check.times(")", 20) + "}", "1").meets("expr {" + Check.times("max(", 21) + "1" + Check.times(")", 21) + "}", 4);
-        check.gives("expr {" + Check.times("-(", 10) + "1" + Check.times(")", 10) + "}", "1").meets("expr {" + Check.times("-(", 10) + "-1" + Check.times(")", 10) + "}", 4);
-        check.meets("expr {" + Check.times("(", 21) + "}", 4).fails("expr {1 2 " + Check.times("(", 21) + "}", "no expression: 1 2 " + Check.times("(", 21));
+        check.gives("expr {" + Check.times("1?", 20) + "2" + Check.times(":3", 20) + "}", "2")
+                .meets("expr {" + Check.times("1?", 21) + "2" + Check.times(":3", 21) + "}", 4);
+        check.gives("expr {" + Check.times("abs(", 20) + "1" + Check.times(")", 20) + "}", "1")
+                .meets("expr {" + Check.times("max(", 21) + "1" + Check.times(")", 21) + "}", 4);
+        check.gives("expr {" + Check.times("-(", 10) + "1" + Check.times(")", 10) + "}", "1")
+                .meets("expr {" + Check.times("-(", 10) + "-1" + Check.times(")", 10) + "}", 4);
+        check.meets("expr {" + Check.times("(", 21) + "}", 4)
+                .fails("expr {1 2 " + Check.times("(", 21) + "}", "no expression: 1 2 " + Check.times("(", 21));
         check.gives("expr {" + Check.times("[expr (1)]*(", 18) + "1" + Check.times(")", 18) + "}", "1");
         String rows = "1||1&&1|1^1&1==1<1<<1+1*";
         check.gives("expr {" + Check.times(rows + "(", 20) + "1" + Check.times(")", 20) + "}", "1");
-        check.gives("expr {" + Check.times("(1?1:2)+", 30) + "0}", "30").gives("expr {max(" + Check.times("1?1:2,", 30) + "0)}", "1");
+        check.gives("expr {" + Check.times("(1?1:2)+", 30) + "0}", "30")
+                .gives("expr {max(" + Check.times("1?1:2,", 30) + "0)}", "1");
     }
 
     private static void stateBehindLimits() {
@@ -186,6 +224,7 @@ public final class LimitTest {
         check.gives("list $a $b [info exists c] [info level]", "1 2 0 0").gives("incr a", "2");
         check.meets("proc f {} {set l 1; f}; f", 4).gives("proc g {} {info exists l}; g", "0").counts(1, 3);
         check.meets("foreach x {1 2 3} {lassign {7 8} d e; string repeat y 4001}", 2).gives("list $x $d $e", "1 7 8");
-        check.meets("set q [string repeat z 4001]", 2).gives("info exists q", "0").gives("expr {1 + 1}", "2").gives("set s \"a[list b]c\"", "abc");
+        check.meets("set q [string repeat z 4001]", 2).gives("info exists q", "0")
+                .gives("expr {1 + 1}", "2").gives("set s \"a[list b]c\"", "abc");
     }
 }

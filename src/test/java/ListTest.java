@@ -100,7 +100,8 @@ public final class ListTest {
         check.gives("lindex {} end", "").gives("lindex {} 0", "").gives("llength {a {b c}}", "2");
         check.gives("lrange {a {b c} d e} 1 2", "{b c} d").gives("lrange {a b c} -5 99", "a b c");
         check.gives("lrange {a b c} 2 1", "").gives("lrange {a b c} end-1 end", "b c").gives("lrange {} 0 end", "");
-        check.gives("lrange {  a   \"b c\"  } 0 end", "a {b c}").gives("lrange {a b c} -3 -1", "").gives("lrange {a b} 2 5", "");
+        check.gives("lrange {  a   \"b c\"  } 0 end", "a {b c}").gives("lrange {a b c} -3 -1", "")
+                .gives("lrange {a b} 2 5", "");
         check.gives("lreverse {a {b c} {}}", "{} {b c} a").gives("lreverse {}", "");
         check.gives("lsearch {a b a} a", "0").gives("lsearch {a {b c}} {b c}", "1").gives("lsearch {a b} A", "-1");
         check.gives("lsearch {} {}", "-1").gives("lsearch {a {}} {}", "1").gives("lsearch {1 01} 01", "1");
@@ -108,12 +109,15 @@ public final class ListTest {
         check.gives("lassign {a} x y z", "").gives("list $x $y $z", "a {} {}").gives("lassign { a  b }", "a b");
         check.gives("lassign {1 2} m(a) m(b); array get m", "a 1 b 2");
         check.fails("lassign {1 2} q m r", "m is an array").gives("list $q [info exists r]", "1 0");
-        check.gives("concat", "").gives("concat a", "a").gives("concat \" a  b \" {} { } \"\\tc\\n\" {d e}", "a  b c d e");
+        check.gives("concat", "").gives("concat a", "a")
+                .gives("concat \" a  b \" {} { } \"\\tc\\n\" {d e}", "a  b c d e");
         check.gives("concat {a {b}} \"c d\\\\ \"", "a {b} c d\\");
-        check.gives("join {a {b c} {}}", "a b c ").gives("join {a b c} {}", "abc").gives("join {a b c} {, }", "a, b, c");
+        check.gives("join {a {b c} {}}", "a b c ").gives("join {a b c} {}", "abc")
+                .gives("join {a b c} {, }", "a, b, c");
         check.gives("join {}", "").gives("join {a\\{ b} x", "a{xb");
         check.gives("split {a b\tc}", "a b c").gives("split \" a\\n\\nb\"", "{} a {} b");
-        check.gives("split {a,b;c} {,;}", "a b c").gives("split abc {}", "a b c").gives("split \"a \\{\" {}", "a { } \\{");
+        check.gives("split {a,b;c} {,;}", "a b c").gives("split abc {}", "a b c")
+                .gives("split \"a \\{\" {}", "a { } \\{");
         check.gives("split {} ,", "").gives("split {} {}", "").gives("split , ,", "{} {}").gives("split abc x", "abc");
         check.gives("split {a b;c} {;}", "{a b} c").gives("split {a b} \\{", "{a b}");
         check.gives("lappend l", "").gives("lappend l a {b c}", "a {b c}").gives("lappend l", "a {b c}");
@@ -139,18 +143,25 @@ public final class ListTest {
     private static void textCommands() {
         Check check = new Check();
         check.gives("string length {}", "0").gives("string length \"a\\x00b\"", "3");
-        check.gives("string range abcde 1 3", "bcd").gives("string range abc -2 1", "ab").gives("string range abc 1 99", "bc");
-        check.gives("string range abc 2 1", "").gives("string range abc end-1 end", "bc").gives("string range {} 0 end", "");
-        check.gives("string range abc 3 5", "").gives("string range abc -3 -1", "").gives("string range abc -9223372036854775808 9223372036854775807", "abc");
-        check.gives("string equal a a", "1").gives("string equal a A", "0").gives("string equal 1 01", "0").gives("string equal {} {}", "1");
+        check.gives("string range abcde 1 3", "bcd").gives("string range abc -2 1", "ab")
+                .gives("string range abc 1 99", "bc");
+        check.gives("string range abc 2 1", "").gives("string range abc end-1 end", "bc")
+                .gives("string range {} 0 end", "");
+        check.gives("string range abc 3 5", "").gives("string range abc -3 -1", "")
+                .gives("string range abc -9223372036854775808 9223372036854775807", "abc");
+        check.gives("string equal a a", "1").gives("string equal a A", "0")
+                .gives("string equal 1 01", "0").gives("string equal {} {}", "1");
         check.gives("string compare a b", "-1").gives("string compare b a", "1").gives("string compare a a", "0");
-        check.gives("string compare a ab", "-1").gives("string compare ab a", "1").gives("string compare \\xff a", "1").gives("string compare 10 9", "-1");
+        check.gives("string compare a ab", "-1").gives("string compare ab a", "1")
+                .gives("string compare \\xff a", "1").gives("string compare 10 9", "-1");
         check.gives("string first b abcb", "1").gives("string first bc abcb", "1").gives("string first x abc", "-1");
-        check.gives("string first {} abc", "-1").gives("string first abcd abc", "-1").gives("string first abc abc", "0").gives("string first aab aaab", "1");
+        check.gives("string first {} abc", "-1").gives("string first abcd abc", "-1")
+                .gives("string first abc abc", "0").gives("string first aab aaab", "1");
         check.gives("string repeat ab 3", "ababab").gives("string repeat ab 0", "").gives("string repeat ab -5", "");
         check.gives("string repeat {} 9223372036854775807", "").fails("string repeat ab x", "no whole: x");
         check.gives("string reverse abc", "cba").gives("string reverse {}", "");
         check.gives("string toupper aZz09\\xe4", "AZZ09\u00e4").gives("string tolower aZ\\[@", "az[@");
-        check.gives("string trim \" \\t\\n\\v\\f\\ra b\\r \"", "a b").gives("string trim \"  \"", "").gives("string trim \\x00", "\u0000");
+        check.gives("string trim \" \\t\\n\\v\\f\\ra b\\r \"", "a b")
+                .gives("string trim \"  \"", "").gives("string trim \\x00", "\u0000");
     }
 }

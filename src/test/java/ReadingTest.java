@@ -20,7 +20,8 @@ public final class ReadingTest {
         check.gives("", "").gives(" \t\n;; \\\n ; ", "");
         check.gives("set a 1;set b 2\nset c 3", "3");
         check.gives("  list  a\t b \\\n  c ;", "a b c");
-        check.gives("list a\\\nb", "a b").gives("\\\nlist c", "c").gives(";\\\n\\\nlist d", "d").gives("list e;\\\n", "e").gives("\\\n# note", "");
+        check.gives("list a\\\nb", "a b").gives("\\\nlist c", "c").gives(";\\\n\\\nlist d", "d")
+                .gives("list e;\\\n", "e").gives("\\\n# note", "");
         check.gives("list a\n", "a").gives("list a;\n\n;", "a");
         // Bytes 11, 12 and 13 are WHITE, but no BLANKS.
         check.fails("list\r", "no such command: list\r");
@@ -100,9 +101,11 @@ public final class ReadingTest {
 
     private static void variables() {
         Check check = new Check();
-        check.gives("set azAZ09_ v; list $azAZ09_ $azAZ09_- $azAZ09_\\x60", "v v- v`").gives("list $`$@$/$:", "{$`$@$/$:}");
+        check.gives("set azAZ09_ v; list $azAZ09_ $azAZ09_- $azAZ09_\\x60", "v v- v`")
+                .gives("list $`$@$/$:", "{$`$@$/$:}");
         check.gives("set a 1; set b_2 3; list $a$b_2 $a.x $a-$a", "13 1.x 1-1");
-        check.gives("set m(k) v; set m(k\\ l) w; set i k; list $m(k) $m($i) $m([set i]) $m(k\\x20l) $m($i l)", "v v v w w");
+        check.gives("set m(k) v; set m(k\\ l) w; set i k; list $m(k) $m($i) $m([set i]) $m(k\\x20l) $m($i l)",
+                "v v v w w");
         check.gives("set {m(] ;\n\")} x; set y $m(] ;\n\")", "x");
         check.gives("set {m(\\x41)} raw; set m(A) sub; list $m(\\x41) ${m(\\x41)}", "sub raw");
         check.gives("set {a b} 5; list ${a b} ${a}x", "5 1x").gives("set {} e; list ${}", "e");
@@ -119,8 +122,10 @@ public final class ReadingTest {
         check.gives("set a [list b\nlist c\n]", "c").gives("set a [ ]", "");
         check.gives("set a x[list {]}]y", "x{]}y");
         check.gives("set a [set b [set c d]][set b]", "dd");
-        check.ends("set m(1) 1; list $m([break])", 3, "").ends("list a$m(x[error e])b", 1, "e").fails("list \"$m($none)\"", "no variable none");
-        check.fails("list $m($m(2))", "no element m(2)").ends("subst {$m([return r])}", 2, "r").ends("expr {$m([continue])}", 4, "");
+        check.ends("set m(1) 1; list $m([break])", 3, "").ends("list a$m(x[error e])b", 1, "e")
+                .fails("list \"$m($none)\"", "no variable none");
+        check.fails("list $m($m(2))", "no element m(2)").ends("subst {$m([return r])}", 2, "r")
+                .ends("expr {$m([continue])}", 4, "");
         check.ends("list [break] [error x]", 3, "").ends("set a [return -code 5 x]", 2, "x");
     }
 
