@@ -105,6 +105,9 @@ public final class CommandBoundsTest {
                 .fails("incr a(x)", "a is no array").gives("set a 1", "1");
         check.fails("set t x;incr t", "no whole: x").gives("set t", "x").fails("set t {};incr t", "no whole: ");
 
+        check.fresh().gives("set m(k) 5;incr m(k)", "6").gives("upvar 0 m(k) l;incr l 4", "10")
+                .gives("incr m(k) -1", "9");
+
         check = Check.of("by by more (1; a WHOLE, looked at behind the value), is written; that.");
         check.gives("set a 5;incr a", "6").gives("incr a -7", "-1").gives("incr a 0", "-1")
                 .gives("set a", "-1").gives("incr a { 0x10 }", "15")
@@ -115,6 +118,8 @@ public final class CommandBoundsTest {
 
     private static void append() {
         Check check = Check.of("append name ..: without texts READ; else the value (empty, likewise) and the texts behind it are written; the value.");
+        check.gives("set m(k) a;append m(k) b;append m(k) c", "abc").gives("lappend m(k) d", "abc d")
+                .gives("lappend m(k) e", "abc d e").gives("append m(k)", "abc d e").fresh();
         check.fails("append a", "no variable a").counts(5, 0)
                 .fails("append m(x)", "no variable m(x)").gives("append a b", "b")
                 .gives("append a", "b").gives("append a {} c {d e}", "bcd e")
@@ -240,7 +245,7 @@ public final class CommandBoundsTest {
         Check check = Check.of("code: ok error return break continue (0 to 4), or a WHOLE from 0 to 999; \"no code: TEXT\".");
         check.gives("proc p c {return -code $c v};list [catch {p ok}] [catch {p error}] [catch {p return}] [catch {p break}] [catch {p continue}]", "0 1 2 3 4")
                 .gives("list [catch {p 0}] [catch {p 999}] [catch {p 0x3e7}] [catch {p { +7 }}] [catch {p -0}] [catch {p 007}]", "0 999 999 7 0 7");
-        for (String code : new String[] {"-1", "1000", "0x3e8", "", "Ok", "ok ", "err", "okerror", "ok error",
+        for (String code : new String[] {"k", "rror", "urn", "-1", "1000", "0x3e8", "", "Ok", "ok ", "err", "okerror", "ok error",
                 "9223372036854775807", "9223372036854775808", "4294967296", "1.0"}) {
             check.fails("return -code {" + code + "} v", "no code: " + code)
                     .fails("return -code {" + code + "}", "no code: " + code);
@@ -407,7 +412,8 @@ public final class CommandBoundsTest {
 
     private static void switches() {
         Check check = Check.of("switch text pairs: pairs, a list of patterns and bodies (\"no pairs\", if one lacks): the body behind the first pattern that is the text, or behind the last one, if that is default");
-        check.gives("switch b {a {list 1} b {list 2} b {list 3}}", "2")
+        check.gives("switch b {a b c {list 1}}", "").gives("switch default {a default b {list 1}}", "")
+                .gives("switch b {a {list 1} b {list 2} b {list 3}}", "2")
                 .gives("switch c {a {list 1} b {list 2}}", "")
                 .gives("switch c {a {list 1} default {list 2}}", "2")
                 .gives("switch c {default {list 1} a {list 2}}", "")
@@ -424,6 +430,7 @@ public final class CommandBoundsTest {
 
     private static void switchBodies() {
         Check check = Check.of("where a body is - , the next one that is not (\"no body\", if there is none); its result.");
+        check.fails("switch a {a -}", "no body");
         check.gives("switch a {a - b {list 1}}", "1")
                 .gives("switch a {a - b - c {list 1} d {list 2}}", "1")
                 .gives("switch c {a - b - c {list 1}}", "1").fails("switch a {a -}", "no body")

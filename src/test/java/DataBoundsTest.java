@@ -325,7 +325,8 @@ public final class DataBoundsTest {
                     .fails(name + " Exists a", "no option: Exists")
                     .fails(name + " {exists } a", "no option: exists ");
         }
-        check.fails("string exists a", "no option: exists")
+        check.fails("string ength a", "no option: ength").fails("array ists a", "no option: ists")
+                .fails("info l", "no option: l").fails("string exists a", "no option: exists")
                 .fails("array length a", "no option: length")
                 .fails("info set a b", "no option: set").fails("string lengt a", "no option: lengt")
                 .fails("string lengthx a", "no option: lengthx");
@@ -364,7 +365,8 @@ public final class DataBoundsTest {
         Check check = Check.of("subst text: substituted as PARTS, read whole first; the result.");
         check.gives("set a 1;set m(k) 2;subst {$a [list b c] $m(k) ${a} \\x41\\n{$a} \"$a\" ; #}", "1 b c 2 1 A\n{1} \"1\" ; #")
                 .gives("subst {}", "").gives("subst {a b}", "a b").gives("subst \"])}\"", "])}");
-        check.fails("subst {[puts no]$m(}", "missing parenthesis");
+        check.fails("subst {[puts no]$m(}", "missing parenthesis")
+                .fails("subst {[puts no]\u0000$m(}", "missing parenthesis");
         Check.due("OUT of what is read whole first", check.out(), "");
         check.fails("subst \"\\[puts no\"", "missing bracket")
                 .fails("subst {[puts no][list {a}b]}", "more behind brace")

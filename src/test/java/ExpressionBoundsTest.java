@@ -4,6 +4,7 @@ public final class ExpressionBoundsTest {
         readWhole();
         white();
         rows();
+        rowsInPairs();
         rowsFromTheLeft();
         choosing();
         numbers();
@@ -100,6 +101,36 @@ public final class ExpressionBoundsTest {
         is(check, "1 ni 2<=1", "1");
     }
 
+    /** Any two operators: what stands without parentheses is as with those that the rows tell. */
+    private static void rowsInPairs() {
+        Check check = Check.of("From the loosest: c ? x : y (from the right); ||; &&; |; ^; &; == != eq ne in ni;"
+                + " < <= > >=; << >>; + -; * / %");
+        String[] rows = {"||", "&&", "|", "^", "&", "== != eq ne in ni", "< <= > >=", "<< >>", "+ -", "* / %"};
+        String[] numbers = {"0 0 1", "0 1 0", "1 0 2", "2 2 1", "3 1 1", "2 3 3", "5 2 2", "1 2 3", "7 4 3", "4 4 2"};
+        for (int first = 0; first < rows.length; first++) {
+            for (int second = 0; second < rows.length; second++) {
+                for (String one : rows[first].split(" ")) {
+                    for (String other : rows[second].split(" ")) {
+                        alike(check.fresh(), one, other, first >= second, numbers);
+                    }
+                }
+            }
+        }
+    }
+
+    private static void alike(Check check, String one, String other, boolean leftFirst, String[] numbers) {
+        for (String row : numbers) {
+            String[] n = row.split(" ");
+            String plain = n[0] + " " + one + " " + n[1] + " " + other + " " + n[2];
+            String grouped = leftFirst ? "(" + n[0] + " " + one + " " + n[1] + ") " + other + " " + n[2]
+                    : n[0] + " " + one + " (" + n[1] + " " + other + " " + n[2] + ")";
+            check.run("catch {expr {" + grouped + "}} e;set e");
+            String due = check.result();
+            check.run("catch {expr {" + plain + "}} e;set e");
+            Check.due("the result of: expr {" + plain + "}", check.result(), due);
+        }
+    }
+
     private static void rowsFromTheLeft() {
         Check check = Check.of("each row from the left.");
         is(check, "10-3-2", "5");
@@ -122,6 +153,10 @@ public final class ExpressionBoundsTest {
         is(check, "-~!5", "1");
         is(check, "!!7", "1");
         is(check, "+-+5", "-5");
+        is(check, "5-!0", "4");
+        is(check, "5-~0", "6");
+        is(check, "5--3", "8");
+        is(check, "5-+3*!0", "2");
     }
 
     private static void choosing() {
@@ -152,6 +187,7 @@ public final class ExpressionBoundsTest {
         is(check, "0", "0");
         is(check, "007", "7");
         is(check, "0x1F", "31");
+        is(check, "0xa+0xf+0xA+0xF+0x0+0x9", "59");
         is(check, "9223372036854775807", "9223372036854775807");
         is(check, "-9223372036854775807-1", "-9223372036854775808");
         for (String text : new String[] {"9223372036854775808", "-9223372036854775808", "0x", "0X1", "1a", "1e3",
@@ -206,9 +242,13 @@ public final class ExpressionBoundsTest {
         is(check, "max(1?2:3,0)", "2");
         is(check, "max(min(1,2),abs(-3))+1", "4");
         is(check, "max(-2,-1)", "-1");
+        is(check, "5-min(3,4)", "2");
+        is(check, "5-abs(-3)", "2");
+        is(check, "max(" + Check.times("1,", 200) + "2)", "2");
+        is(check, "min(" + Check.times("1,", 200) + "-2)+" + Check.times("(", 19) + "3" + Check.times(")", 19), "1");
         for (String text : new String[] {"abs()", "abs(1,2)", "min()", "max()", "min(1,)", "min(,1)", "max(1,,2)",
                 "abs", "abs 1", "min 1,2", "1,2", "(1,2)", "abs(1", "max(1,2", "abs)", "max((1,2))", "-abs",
-                "Abs(1)"}) {
+                "Abs(1)", "foo(1)", "foo(1", "(1)foo(2", "abs 12)", "max 12)", "min)1)"}) {
             refused(check, text);
         }
         check.fails("expr {abs(\"a\")}", "no whole: a")

@@ -121,6 +121,7 @@ public final class LimitBoundsTest {
 
         Check.of("when a word, a KEY, an operand, a text of subst has been substituted, by its bytes");
         steps("list a$i", 13, 4, 3, 7, 3);
+        steps("set y ab[list $i]c", 23, 3, 1, 12, 4, 2, 7, 2, 5, 8, 5);
         steps("set m(k) v;list $m(k)", 26, 3, 4, 1, 8, 1, 4, 1, 1, 7, 1);
         steps("list {*}{a b}", 18, 4, 3, 8, 3);
         steps("subst {a\\x41}", 18, 5, 5, 7, 2, 2);
@@ -157,6 +158,7 @@ public final class LimitBoundsTest {
                 .meets("string length $c\\x41", 2).gives("string length $c[]", "4000")
                 .meets("string length $c[list x]", 2);
         check.gives("llength [list {*}$a$b]", "1").fresh();
+        check.gives(TWO + "string length $a[string length $c]", "2004").fresh();
         check.gives(TWO + "llength [list {*}$c]", "1").meets("llength [list {*}${c}x]", 2);
     }
 
@@ -344,6 +346,9 @@ public final class LimitBoundsTest {
             Check.due("the code of " + inner, check.run(nested(99, inner)), 0);
             check.counts(2, 100).fresh().meets(nested(100, inner), 4).counts(2, 100);
         }
+        new Check().gives("list \"a\" \"b\";list [list]", "{}").counts(2, 2)
+                .gives("subst a;subst b;list [list]", "{}").counts(2, 2)
+                .gives("expr {\"1\"};expr {\"1\"};expr {[list 1]}", "1").counts(2, 3);
         new Check().gives("set m(1) 1;list $m($m(1))", "1").counts(2, 3)
                 .gives("list $m(1) $m(1)[list]", "1 1").counts(2, 2)
                 .gives("expr {$m(1)+[list 1]}", "2").counts(2, 3);

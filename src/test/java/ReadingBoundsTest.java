@@ -74,7 +74,7 @@ public final class ReadingBoundsTest {
 
     private static void aheadOfCommands() {
         Check check = Check.of("bytes 10, BLANKS, ; and \\ with 10 behind it ahead of a command are passed over.");
-        check.gives("\n\t ;\\\n;;list a", "a").gives("\\\n", "").gives("list [\n;\\\n list b]", "b");
+        check.gives("\\\n# note", "").gives(";\\\n \\\n#;list", "").gives("\n\t ;\\\n;;list a", "a").gives("\\\n", "").gives("list [\n;\\\n list b]", "b");
         check.fails("\rlist", "no such command: \rlist").fails("\u000blist", "no such command: \u000blist");
         check.gives("\\list c", "c").fails("\\", "no such command: \\");
     }
@@ -94,6 +94,8 @@ public final class ReadingBoundsTest {
 
     private static void words() {
         Check check = Check.of("A command's WORDS have BLANKS (or \\ and 10) between");
+        check.fails("list [puts no] a\\\n{b", "missing brace").fails("list [list [puts no] a\\\n\"b]", "missing quote");
+        Check.due("OUT of what goes on behind \\ and 10", check.out(), "");
         check.gives("list a \t b", "a b").gives("list a\\\nb", "a b")
                 .gives("list a \\\n\t\\\n b", "a b").gives("list a\\\n", "a");
         check.gives("list a\\nb", "{a\nb}").gives("list a\rb", "{a\rb}");
@@ -173,6 +175,8 @@ public final class ReadingBoundsTest {
 
     private static void variableParts() {
         Check check = Check.of("$ with a name (letters, digits, _ ; one at least), or that and at once ( KEY )");
+        check.gives("set azAZ_09 u;set a 1;set z 2;set A 3;set Z 4;set 0 5;set 9 6", "6")
+                .gives("set x $azAZ_09$a$z$A$Z$0$9", "u123456").gives("set x $`$@$[list]$/$:", "$`$@$$/$:");
         check.gives("set aZ_9 v;set m(k) w;set x $aZ_9-$m(k)", "v-w").gives("set 0 z;set x $0", "z")
                 .gives("set _ u;set x $_.$_", "u.u");
         check.gives("set x $", "$").gives("set x $$", "$$").gives("set x $(k)", "$(k)")
@@ -281,6 +285,9 @@ public final class ReadingBoundsTest {
                 .prints("puts [puts a]", "a\n\n");
 
         check = Check.of("a script in [ ] is evaluated, its result stands for it; a variable's value stands for $ ..");
+        check.gives("set x a[{list} {b}]c", "abc").gives("set x \"a[catch {list b$none}]c\"", "a1c")
+                .gives("set x a[catch {list b[error e]}][{concat} {d}]$x", "a1da1c")
+                .fails("set x a[\u0000]", "no such command: \u0000");
         check.gives("set x a[list b c][]d", "ab cd").gives("set y a$x${x}b", "aab cdab cdb");
 
         check = Check.of("(a KEY is substituted first, and is the element's text as it is then; a name of ${ } is split as NAMES are, see 2)");

@@ -212,6 +212,8 @@ public final class ValueBoundsTest {
         for (String[] row : places) {
             check.gives("lindex {a b c} {" + row[0] + "}", row[1]).gives("string index abc {" + row[0] + "}", row[1]);
         }
+        check.gives("set l {a b c d e f g h i j k l};lindex $l end-10", "b").gives("lindex $l end-11", "a")
+                .gives("lindex $l end-12", "").gives("lindex $l 10", "k").gives("lindex $l end-100", "");
         check.gives("lindex {} end", "").gives("lindex {} 0", "").gives("string index {} end", "")
                 .gives("lindex {} end-0", "");
 

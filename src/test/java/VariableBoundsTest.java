@@ -53,6 +53,8 @@ public final class VariableBoundsTest {
                 .counts(5, 3);
         check.gives("proc p x {set y 1;info exists z};p 1", "0").counts(5, 3).gives("p 2", "0");
         check.gives("proc q {} {set r [info exists s];set s 1;set r};list [q] [q]", "0 0");
+        check.gives("proc q {} {upvar 0 s t;set r [info exists s];set s 1;set r};list [q] [q]", "0 0")
+                .gives("set m(a) 1;unset m;upvar 0 m(b) x;list [info exists m(b)] [info exists x]", "0 0");
     }
 
     private static void knownElements() {
@@ -170,6 +172,8 @@ public final class VariableBoundsTest {
         check.gives("proc p l {uplevel $l {info level}};proc q l {p $l};proc r l {q $l};list [r #0] [r #1] [r #2] [r #3] [r 0] [r 1] [r 2] [r 3]",
                 "0 1 2 3 3 2 1 0");
         check.gives("list [r #00] [r #002] [r 003] [r 00]", "0 2 0 3");
+        check.gives("proc s n {if {$n > 1} {s [incr n -1]} else {list [p #10] [p #11] [p 10] [p 11] [p 12]}};s 12",
+                "10 11 3 2 1");
 
         check = Check.of("\"no level: TEXT\" if there is none such, or it is none.");
         check.gives("upvar #0 a b;upvar 0 c d;uplevel #0 {list ok}", "ok")
