@@ -5,8 +5,8 @@ import java.lang.management.ManagementFactory;
  * test compares answers, and holds the bytes that the calls took against the WORK that they did.
  */
 public final class RoomTest {
-    /** Some four small objects for each of WORK, as in a room of 600,000 objects for all 150000. */
-    private static final long BYTES_FOR_WORK = 100;
+    /** One or two small objects for each of WORK: far less than the room has for all 150000. */
+    private static final long BYTES_FOR_WORK = 40;
     /** For what is made once: rows that grow, and what Java itself makes at first. */
     private static final long BYTES_ONCE = 2000000;
 
@@ -19,6 +19,8 @@ public final class RoomTest {
         foreachOfArraysLinked();
         foreachOfLinkedElements();
         callsWithManyParameters();
+        listsOfParameters();
+        manyOperands();
         wordsBeyondWork();
         Check.finish();
     }
@@ -129,6 +131,20 @@ public final class RoomTest {
         }
         check.meets("proc p {" + params + "} {};while 1 p", 1);
         small("calls with many parameters", before, check.core);
+    }
+
+    private static void listsOfParameters() {
+        long before = taken();
+        Check check = new Check();
+        check.meets("set l [string repeat {a } 2000];while 1 {proc p $l {}}", 1);
+        small("lists of parameters", before, check.core);
+    }
+
+    private static void manyOperands() {
+        long before = taken();
+        Check check = new Check();
+        check.meets("set i 2;set x [string repeat {$i*} 1333]1;while 1 {expr $x}", 1);
+        small("many operands", before, check.core);
     }
 
     /** A word that WORK does not let be taken is not made either. */
