@@ -6,7 +6,13 @@ final class Check {
     private static String sentence = "";
     private static int sentences = 0;
 
+    /** What the document promises of an object goes no further. */
+    private static final int MOST_CALLS = 512;
+    /** A text that is longer is compared by its size and its ends, as each byte is a call. */
+    private static final int LONG = 300;
+
     CommandCore core = new CommandCore();
+    private int calls = 0;
 
     /** Begins the test of a sentence, in the document's own words, with a new object. */
     static Check of(String words) {
@@ -40,7 +46,16 @@ final class Check {
     /** An object as new. */
     Check fresh() {
         core = new CommandCore();
+        calls = 0;
         return this;
+    }
+
+    /** Counts calls of the object: a test that needs more would ask what is not promised. */
+    private void called(int number) {
+        calls += number;
+        if (calls > MOST_CALLS && calls - number <= MOST_CALLS) {
+            due("whether one object is called " + MOST_CALLS + " times at most", false, true);
+        }
     }
 
     /** Writes a text on the tape; its characters are bytes. */
@@ -53,35 +68,51 @@ final class Check {
                 numbers[k / 4] = numbers[k / 4] << 8 | c;
             }
             core.feed(numbers[0], numbers[1], numbers[2], numbers[3], numbers[4]);
+            called(1);
         }
         core.end(written + text.length());
+        called(2);
     }
 
     int run(String script) {
         tape(script);
+        called(1);
         return core.run();
     }
 
     String result() {
+        return result(0, core.size());
+    }
+
+    private String result(int first, int behind) {
         StringBuilder text = new StringBuilder();
-        for (int i = 0; i < core.size(); i++) {
+        for (int i = first; i < behind; i++) {
             text.append((char) core.result(i));
         }
+        called(behind - first + 1);
         return text.toString();
     }
 
     String out() {
         StringBuilder text = new StringBuilder();
-        for (int i = 0; i < core.outSize(); i++) {
+        int size = core.outSize();
+        for (int i = 0; i < size; i++) {
             text.append((char) core.out(i));
         }
+        called(size + 1);
         return text.toString();
     }
 
     /** The script ends with a code and a result. */
     Check ends(String script, int code, String result) {
         due("the code of: " + script, run(script), code);
-        due("the result of: " + script, result(), result);
+        int size = core.size();
+        if (size > LONG && size == result.length()) {
+            due("the beginning of the result of: " + script, result(0, LONG / 4), result.substring(0, LONG / 4));
+            due("the end of the result of: " + script, result(size - LONG / 4, size), result.substring(size - LONG / 4));
+        } else {
+            due("the result of: " + script, result(), result);
+        }
         return this;
     }
 
@@ -106,6 +137,7 @@ final class Check {
 
     Check counts(int what, int number) {
         due("count(" + what + ")", core.count(what), number);
+        called(1);
         return this;
     }
 
@@ -119,6 +151,7 @@ final class Check {
         int before = core.count(0);
         run(script);
         due("WORK of: " + script, core.count(0) - before, work);
+        called(2);
         return this;
     }
 

@@ -56,11 +56,11 @@ public final class CommandBoundsTest {
         Check.of("Arguments in < > may be left out; .. : any number more. With others: \"wrong arguments: NAME\" (NAME the first word).");
         Object[][] rows = {{"set", 1, 2}, {"unset", 0, -1}, {"incr", 1, 2}, {"append", 1, -1}, {"lappend", 1, -1},
                 {"proc", 3, 3}, {"break", 0, 0}, {"continue", 0, 0}, {"error", 1, 1},
-            {"catch", 1, 2}, {"eval", 1, -1}, {"expr", 1, -1}, {"while", 2, 2}, {"for", 4, 4}, {"switch", 2, 2},
-                    {"upvar", 2, -1}, {"uplevel", 1, -1}, {"global", 0, -1}, {"list", 0, -1},
-            {"lindex", 2, 2}, {"llength", 1, 1}, {"lrange", 3, 3}, {"lreverse", 1, 1}, {"lsearch", 2, 2}, {"lassign", 1,
-                    -1}, {"concat", 0, -1}, {"join", 1, 2}, {"split", 1, 2},
-            {"rename", 2, 2}, {"subst", 1, 1}};
+                {"catch", 1, 2}, {"eval", 1, -1}, {"expr", 1, -1}, {"while", 2, 2}, {"for", 4, 4}, {"switch", 2, 2},
+                {"upvar", 2, -1}, {"uplevel", 1, -1}, {"global", 0, -1}, {"list", 0, -1},
+                {"lindex", 2, 2}, {"llength", 1, 1}, {"lrange", 3, 3}, {"lreverse", 1, 1}, {"lsearch", 2, 2}, {"lassign", 1,
+                -1}, {"concat", 0, -1}, {"join", 1, 2}, {"split", 1, 2},
+                {"rename", 2, 2}, {"subst", 1, 1}};
         for (Object[] row : rows) {
             takes((String) row[0], (Integer) row[1], (Integer) row[2]);
         }
@@ -247,7 +247,7 @@ public final class CommandBoundsTest {
                 .gives("list [catch {p 0}] [catch {p 999}] [catch {p 0x3e7}] [catch {p { +7 }}] [catch {p -0}] [catch {p 007}]", "0 999 999 7 0 7");
         for (String code : new String[] {"k", "rror", "urn", "-1", "1000", "0x3e8", "", "Ok", "ok ", "err", "okerror", "ok error",
                 "9223372036854775807", "9223372036854775808", "4294967296", "1.0"}) {
-            check.fails("return -code {" + code + "} v", "no code: " + code)
+            check.fresh().fails("return -code {" + code + "} v", "no code: " + code)
                     .fails("return -code {" + code + "}", "no code: " + code);
         }
     }

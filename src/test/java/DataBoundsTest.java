@@ -308,9 +308,9 @@ public final class DataBoundsTest {
         Check check = Check.of("(\"wrong arguments: NAME\", NAME being string, array, info, without an option, or with others than these arguments behind it; \"no option: TEXT\" for other options.)");
         Object[][] rows = {{"string", "length", 1}, {"string", "index", 2}, {"string", "range", 3}, {"string", "equal",
                 2}, {"string", "compare", 2}, {"string", "first", 2}, {"string", "repeat", 2}, {"string", "reverse", 1},
-            {"string", "toupper", 1}, {"string", "tolower", 1}, {"string", "trim", 1}, {"array", "exists", 1}, {"array",
-                    "size", 1}, {"array", "names", 1}, {"array", "get", 1}, {"array", "set", 2}, {"array", "unset", 1},
-            {"info", "exists", 1}, {"info", "level", 0}, {"info", "args", 1}, {"info", "body", 1}};
+                {"string", "toupper", 1}, {"string", "tolower", 1}, {"string", "trim", 1}, {"array", "exists", 1}, {"array",
+                "size", 1}, {"array", "names", 1}, {"array", "get", 1}, {"array", "set", 2}, {"array", "unset", 1},
+                {"info", "exists", 1}, {"info", "level", 0}, {"info", "args", 1}, {"info", "body", 1}};
         for (Object[] row : rows) {
             for (int number = 0; number <= 5; number++) {
                 check.fresh().run(row[0] + " " + row[1] + Check.times(" 0", number));
@@ -319,13 +319,13 @@ public final class DataBoundsTest {
             }
         }
         for (String name : new String[] {"string", "array", "info"}) {
-            check.fails(name, "wrong arguments: " + name).fails(name + " none", "no option: none")
+            check.fresh().fails(name, "wrong arguments: " + name).fails(name + " none", "no option: none")
                     .fails(name + " none a b c d", "no option: none")
                     .fails(name + " {}", "no option: ")
                     .fails(name + " Exists a", "no option: Exists")
                     .fails(name + " {exists } a", "no option: exists ");
         }
-        check.fails("string ength a", "no option: ength").fails("array ists a", "no option: ists")
+        check.fresh().fails("string ength a", "no option: ength").fails("array ists a", "no option: ists")
                 .fails("info l", "no option: l").fails("string exists a", "no option: exists")
                 .fails("array length a", "no option: length")
                 .fails("info set a b", "no option: set").fails("string lengt a", "no option: lengt")

@@ -31,7 +31,7 @@ public final class ExpressionBoundsTest {
     }
 
     private static Check refused(Check check, String expression) {
-        return check.fails("expr " + Check.quoted(expression), "no expression: " + expression.strip());
+        return check.fresh().fails("expr " + Check.quoted(expression), "no expression: " + expression.strip());
     }
 
     private static void readWhole() {
@@ -320,7 +320,7 @@ public final class ExpressionBoundsTest {
                     .fails("expr {" + sign + "{}}", "no whole: ");
         }
         for (String row : new String[] {"|", "^", "&", "<<", ">>", "+", "-", "*", "/", "%"}) {
-            check.fails("expr {\"a\" " + row + " \"b\"}", "no whole: a")
+            check.fresh().fails("expr {\"a\" " + row + " \"b\"}", "no whole: a")
                     .fails("expr {1 " + row + " \"b\"}", "no whole: b")
                     .fails("expr {\"a\" " + row + " [error e]}", "e")
                     .fails("expr {\"a\" " + row + " 0}", "no whole: a")
@@ -360,10 +360,10 @@ public final class ExpressionBoundsTest {
         String[][] rows = {{"7", "2", "3", "1"}, {"-7", "2", "-4", "1"}, {"7", "-2", "-4", "-1"}, {"-7", "-2", "3",
                 "-1"}, {"6", "3", "2", "0"}, {"-6", "3", "-2", "0"}, {"0", "5", "0", "0"}, {"1", "2", "0", "1"}, {"-1",
                 "2", "-1", "1"}, {"1", "-2", "-1", "-1"},
-            {"9223372036854775807", "-1", "-9223372036854775807", "0"}, {"(-9223372036854775807-1)", "-1",
-                    "-9223372036854775808", "0"}, {"(-9223372036854775807-1)", "2", "-4611686018427387904", "0"},
-                    {"(-9223372036854775807-1)", "9223372036854775807", "-2", "9223372036854775806"}, {"5",
-                    "(-9223372036854775807-1)", "-1", "-9223372036854775803"}};
+                {"9223372036854775807", "-1", "-9223372036854775807", "0"}, {"(-9223372036854775807-1)", "-1",
+                "-9223372036854775808", "0"}, {"(-9223372036854775807-1)", "2", "-4611686018427387904", "0"},
+                {"(-9223372036854775807-1)", "9223372036854775807", "-2", "9223372036854775806"}, {"5",
+                "(-9223372036854775807-1)", "-1", "-9223372036854775803"}};
         for (String[] row : rows) {
             is(check, row[0] + "/" + row[1], row[2]);
             is(check, row[0] + "%" + row[1], row[3]);
@@ -379,16 +379,16 @@ public final class ExpressionBoundsTest {
         String[][] rows = {{"1", "2", "-1"}, {"2", "10", "-1"}, {"10", "9", "1"}, {"\"10\"", "9", "1"}, {"0x10", "16",
                 "0"}, {"\" 5 \"", "+5", "0"}, {"-1", "1", "-1"}, {"\"a\"", "\"b\"", "-1"}, {"\"10\"", "\"9a\"", "-1"},
                 {"\"a\"", "5", "1"}, {"\"\"", "0", "-1"}, {"{}", "{}", "0"}, {"\"ab\"", "\"a\"", "1"},
-            {"\"\\x7f\"", "\"\\x80\"", "-1"}, {"9223372036854775807", "\"9223372036854775808\"", "-1"},
-                    {"-9223372036854775807-1", "9223372036854775807", "-1"}, {"\"9223372036854775808\"",
-                    "\"09223372036854775808\"", "1"}, {"true", "1", "1"}, {"true", "true", "0"}, {"007", "7", "0"},
-                    {"(1+9)", "\"9a\"", "-1"}, {"\"1a\"", "(8+2)", "1"}};
+                {"\"\\x7f\"", "\"\\x80\"", "-1"}, {"9223372036854775807", "\"9223372036854775808\"", "-1"},
+                {"-9223372036854775807-1", "9223372036854775807", "-1"}, {"\"9223372036854775808\"",
+                "\"09223372036854775808\"", "1"}, {"true", "1", "1"}, {"true", "true", "0"}, {"007", "7", "0"},
+                {"(1+9)", "\"9a\"", "-1"}, {"\"1a\"", "(8+2)", "1"}};
         for (String[] row : rows) {
             int order = Integer.parseInt(row[2]);
             String[] operators = {"==", "!=", "<", "<=", ">", ">="};
             boolean[] hold = {order == 0, order != 0, order < 0, order <= 0, order > 0, order >= 0};
             for (int i = 0; i < operators.length; i++) {
-                is(check, row[0] + " " + operators[i] + " " + row[1], hold[i] ? "1" : "0");
+                is(check.fresh(), row[0] + " " + operators[i] + " " + row[1], hold[i] ? "1" : "0");
             }
         }
     }
@@ -423,18 +423,17 @@ public final class ExpressionBoundsTest {
                 {"9223372036854775807", "1"}, {"true", "1"}, {"false", "0"}, {"\"true\"", "1"}, {"{false}", "0"},
                 {"000", "0"}, {"\" -2 \"", "1"}, {"1-1", "0"}};
         for (String[] row : rows) {
-            is(check, "!(" + row[0] + ")", row[1].equals("1") ? "0" : "1");
+            is(check.fresh(), "!(" + row[0] + ")", row[1].equals("1") ? "0" : "1");
             is(check, "(" + row[0] + ")&&5", row[1]);
             is(check, "5&&(" + row[0] + ")", row[1]);
             is(check, "(" + row[0] + ")||0", row[1]);
             is(check, "0||(" + row[0] + ")", row[1]);
             is(check, "(" + row[0] + ")?\"y\":\"n\"", row[1].equals("1") ? "y" : "n");
         }
-        check.fresh();
         for (String text : new String[] {"", "a", "True", " true", "true ", "tru", "truefalse", "9223372036854775808",
                 "0x", "yes", "1 1"}) {
             String operand = Check.quoted(text);
-            check.fails("expr {!" + operand + "}", "no truth: " + text)
+            check.fresh().fails("expr {!" + operand + "}", "no truth: " + text)
                     .fails("expr {" + operand + "&&1}", "no truth: " + text)
                     .fails("expr {1&&" + operand + "}", "no truth: " + text)
                     .fails("expr {" + operand + "||1}", "no truth: " + text)

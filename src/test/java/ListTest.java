@@ -71,7 +71,7 @@ public final class ListTest {
             "9223372036854775808", "-9223372036854775809", "0x8000000000000000", "0x10000000000000000",
             "18446744073709551616", "true"};
         for (String text : none) {
-            check.fails("set a {" + text + "}; incr a", "no whole: " + text);
+            check.fresh().fails("set a {" + text + "}; incr a", "no whole: " + text);
         }
         check.fails("set a x; incr a y", "no whole: x").fails("set a 1; incr a y", "no whole: y");
     }
@@ -88,7 +88,7 @@ public final class ListTest {
         String[] none = {"", "x", "end-", "end-x", "end+1", "end--1", "END", " end", "end ", "end-1 ", "e", "1-1",
             "9223372036854775808"};
         for (String text : none) {
-            check.fails("lindex {a b c} {" + text + "}", "no index: " + text);
+            check.fresh().fails("lindex {a b c} {" + text + "}", "no index: " + text);
             check.fails("string index abc {" + text + "}", "no index: " + text);
         }
         check.fails("lrange {a b} x y", "no index: x").fails("lrange {a b} 0 y", "no index: y");

@@ -28,7 +28,8 @@ public final class ReadingBoundsTest {
             all.append((char) c);
         }
         check.gives("set x " + Check.quoted(all.toString()), all.toString());
-        check.gives("set x", all.toString()).gives("string length $x", "256");
+        check.fresh().gives("set x " + Check.quoted(all.toString()) + ";string length $x", "256").gives("set x", all.toString());
+        check.fresh();
         check.gives("set x \u0000\u007f\u0080\u00ff", "\u0000\u007f\u0080\u00ff");
 
         check = Check.of("A BLANK is byte 9 or 32");
@@ -36,7 +37,7 @@ public final class ReadingBoundsTest {
             boolean blank = c == 9 || c == 32;
             // A command would end there, or a part begin.
             if (c != 10 && ";$[]\\".indexOf(c) < 0) {
-                check.gives("llength [list a" + (char) c + "b]", blank ? "2" : "1");
+                check.fresh().gives("llength [list a" + (char) c + "b]", blank ? "2" : "1");
             }
         }
 
@@ -44,7 +45,7 @@ public final class ReadingBoundsTest {
         for (int c = 0; c < 256; c++) {
             boolean white = c >= 9 && c <= 13 || c == 32;
             if (c != '\\') {
-                check.gives("llength " + Check.quoted("a" + (char) c + "b"), white ? "2" : "1");
+                check.fresh().gives("llength " + Check.quoted("a" + (char) c + "b"), white ? "2" : "1");
             }
         }
 

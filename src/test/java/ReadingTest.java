@@ -141,7 +141,7 @@ public final class ReadingTest {
         check.fails("set a $b([c)", "missing bracket").fails("set a [b $c(d]", "missing parenthesis");
         check.fails("set a \"b\\\"", "missing quote").fails("set a $b(\\)", "missing parenthesis");
         check.fails("set a [b\\]", "missing bracket");
-        check.fails("set a {b}c", "more behind brace").fails("set a {b}\"", "more behind brace");
+        check.fresh().fails("set a {b}c", "more behind brace").fails("set a {b}\"", "more behind brace");
         check.fails("set a \"b\"c", "more behind quote").fails("set a [b {c}d", "more behind brace");
         check.fails("set a {b}]", "more behind brace").fails("set a \"b\"{ [", "more behind quote");
         check.fails("set a [b \"c\"d]", "more behind quote").fails("list a {b}c {", "more behind brace");

@@ -70,7 +70,7 @@ public final class RoomTest {
         Check check = new Check();
         check.gives("set l [string repeat {\\; } 1300]\\{;llength $l\\}", "1301");
         long before = taken();
-        for (int i = 0; i < 100; i++) {
+        for (int i = 0; i < 50; i++) {
             check.ends("catch {lappend l b};catch {lappend l}", 0, "1");
         }
         small("lappend, escapes", before, check.core);

@@ -132,24 +132,25 @@ public final class ValueBoundsTest {
         for (int c = 0; c < 256; c++) {
             all.append((char) c);
         }
-        check.gives("set x " + Check.quoted(all.toString()) + ";lindex [list $x] 0", all.toString());
-        check.gives("set y [list a $x];lappend y b;lindex $y 1", all.toString());
+        check.fresh().gives("set x " + Check.quoted(all.toString()) + ";lindex [list $x] 0", all.toString());
+        check.fresh().gives("set x " + Check.quoted(all.toString()) + ";set y [list a $x];lappend y b;lindex $y 1",
+                all.toString());
     }
 
     private static void wholes() {
         Check check = Check.of("WHITE around, perhaps + or -, then digits, or 0x and digits 0-9a-fA-F, one at least");
         String[][] wholes = {{"0", "0"}, {"7", "7"}, {"007", "7"}, {"+7", "7"}, {"-7", "-7"},
                 {" \t\n\u000b\f\r7\r\f\u000b\n\t ", "7"}, {"0x0", "0"}, {"0x1f", "31"},
-            {"0xAF", "175"}, {"-0x10", "-16"}, {"+0xa", "10"}, {"-0", "0"}, {" -5 ", "-5"}, {"09", "9"},
-                    {"0x00000000000000000000001", "1"}};
+                {"0xAF", "175"}, {"-0x10", "-16"}, {"+0xa", "10"}, {"-0", "0"}, {" -5 ", "-5"}, {"09", "9"},
+                {"0x00000000000000000000001", "1"}};
         for (String[] row : wholes) {
-            check.gives("set v " + Check.quoted(row[0]) + ";incr v 0", row[1]);
+            check.fresh().gives("set v " + Check.quoted(row[0]) + ";incr v 0", row[1]);
         }
         String[] others = {"", " ", "+", "-", "0x", "+0x", "x", "a", "7a", "a7", "--7", "+-7", "- 7", "7 7", "0X1",
                 "0xg", "0x-1", "1.0", "1e3", "\b7", "7\u000e", "7\u001f", "0b1",
-            "true", "/", ":", "0x/", "0x:", "0x@", "0xG", "0x`", "7-", "00x1", "1_0"};
+                "true", "/", ":", "0x/", "0x:", "0x@", "0xG", "0x`", "7-", "00x1", "1_0"};
         for (String text : others) {
-            check.fails("set v " + Check.quoted(text) + ";incr v 0", "no whole: " + text);
+            check.fresh().fails("set v " + Check.quoted(text) + ";incr v 0", "no whole: " + text);
         }
 
         check = Check.of("Else: error \"no whole: TEXT\".");
@@ -172,17 +173,17 @@ public final class ValueBoundsTest {
         String least = "-9223372036854775808";
         String[][] wholes = {{most, most}, {"+" + most, most}, {"0000" + most, most}, {least, least},
                 {"-0009223372036854775808", least}, {"0x7fffffffffffffff", most},
-            {"-0x8000000000000000", least}, {"0x00007FFFFFFFFFFFFFFF", most}, {"-0x7fffffffffffffff", "-" + most},
-                    {"9223372036854775799", "9223372036854775799"}};
+                {"-0x8000000000000000", least}, {"0x00007FFFFFFFFFFFFFFF", most}, {"-0x7fffffffffffffff", "-" + most},
+                {"9223372036854775799", "9223372036854775799"}};
         for (String[] row : wholes) {
-            check.gives("set v {" + row[0] + "};incr v 0", row[1]);
+            check.fresh().gives("set v {" + row[0] + "};incr v 0", row[1]);
         }
         String[] others = {"9223372036854775808", "+9223372036854775808", "-9223372036854775809", "0x8000000000000000",
                 "-0x8000000000000001", "18446744073709551616",
-            "9223372036854775810", "99999999999999999999", "-18446744073709551615", "0xffffffffffffffff",
-                    "0x10000000000000000", "10000000000000000000000000", "-92233720368547758080"};
+                "9223372036854775810", "99999999999999999999", "-18446744073709551615", "0xffffffffffffffff",
+                "0x10000000000000000", "10000000000000000000000000", "-92233720368547758080"};
         for (String text : others) {
-            check.fails("set v {" + text + "};incr v 0", "no whole: " + text);
+            check.fresh().fails("set v {" + text + "};incr v 0", "no whole: " + text);
         }
     }
 
@@ -206,9 +207,9 @@ public final class ValueBoundsTest {
         Check check = Check.of("An INDEX of bytes or elements: a WHOLE; or end, the last one; or end- and digits, so many ahead of that");
         String[][] places = {{"0", "a"}, {"2", "c"}, {"3", ""}, {"-1", ""}, {"+1", "b"}, {" 0x2 ", "c"}, {"end", "c"},
                 {"end-0", "c"}, {"end-2", "a"}, {"end-3", ""}, {"end-002", "a"},
-            {"9223372036854775807", ""}, {"-9223372036854775808", ""}, {"4294967296", ""}, {"4294967297", ""},
-                    {"end-4294967296", ""}, {"end-4294967298", ""}, {"end-99999999999999999999999", ""}, {"-4294967295",
-                    ""}};
+                {"9223372036854775807", ""}, {"-9223372036854775808", ""}, {"4294967296", ""}, {"4294967297", ""},
+                {"end-4294967296", ""}, {"end-4294967298", ""}, {"end-99999999999999999999999", ""}, {"-4294967295",
+                ""}};
         for (String[] row : places) {
             check.gives("lindex {a b c} {" + row[0] + "}", row[1]).gives("string index abc {" + row[0] + "}", row[1]);
         }
