@@ -681,7 +681,7 @@ public final class CommandCore {
             }
             int outer = begin();
             int pos = first;
-            while (pos < behind) {
+            for (int turn = first; turn < behind && pos < behind; turn++) {
                 int c = text.at(pos);
                 int next = text.at(pos + 1);
                 if (c == '\\' && next == 10) {
@@ -736,8 +736,8 @@ public final class CommandCore {
             boolean marked = quoted || c == '{';
             elementFrom = marked ? pos + 1 : pos;
             int end = c == '{' ? list.closingBrace(elementFrom) : elementFrom;
-            while (c != '{' && end < list.size
-                    && !(quoted ? list.at(end) == '"' : isWhite(list.at(end)))) {
+            for (int turn = end; c != '{' && turn < list.size && end < list.size
+                    && !(quoted ? list.at(end) == '"' : isWhite(list.at(end))); turn++) {
                 end = list.at(end) == '\\' ? list.behindEscape(end) : end + 1;
             }
             elementTo = end;
@@ -751,7 +751,7 @@ public final class CommandCore {
 
         private void addUnescaped(Text list, int first, int behind) {
             int pos = first;
-            while (pos < behind) {
+            for (int turn = first; turn < behind && pos < behind; turn++) {
                 if (list.at(pos) == '\\') {
                     int end = list.behindEscape(pos);
                     add(list.escaped(pos, end));
@@ -1690,15 +1690,15 @@ public final class CommandCore {
         }
 
         private void closeBinaries(int precedence) {
-            while (openCount > 0 && open[openCount - 1] <= LAST_BINARY
-                    && PRECEDENCE[open[openCount - 1]] >= precedence) {
+            for (int left = openCount; left > 0 && topOpen() <= LAST_BINARY
+                    && PRECEDENCE[topOpen()] >= precedence; left--) {
                 close();
             }
         }
 
         /** Closes all that ends where a side ends; the answer is what stays open there. */
         private int settle() {
-            while (openCount > 0 && (topOpen() <= LAST_BINARY || topOpen() == ELSE)) {
+            for (int left = openCount; left > 0 && (topOpen() <= LAST_BINARY || topOpen() == ELSE); left--) {
                 close();
             }
             return topOpen();
@@ -1706,7 +1706,8 @@ public final class CommandCore {
 
         /** A sign's operand has been read as soon as an operator may come. */
         private void closeSigns() {
-            while (!wantsOperand && topOpen() >= NEGATE && topOpen() <= INVERT) {
+            for (int left = openCount; left > 0 && !wantsOperand && topOpen() >= NEGATE
+                    && topOpen() <= INVERT; left--) {
                 close();
             }
         }
@@ -3369,7 +3370,8 @@ public final class CommandCore {
         /** Puts in part after part, up to one that has to be evaluated. */
         private void parts(Task task) {
             Text text = task.text;
-            while (task.pos < task.to && scribe.limit == 0 && task.phase == Task.PART) {
+            for (int turn = task.pos; turn < task.to && task.pos < task.to && scribe.limit == 0
+                    && task.phase == Task.PART; turn++) {
                 int pos = task.pos;
                 int c = text.at(pos);
                 if (c != '[' && c != '$' && c != '\\') {
