@@ -842,7 +842,18 @@ public final class CommandCore {
             this.ofArray = ofArray;
         }
 
+        /**
+         * Makes it a new frame, called from another. Links lead to frames that are open alone, so
+         * that the objects of the frame that was here can be used again.
+         */
         void open(Names from) {
+            for (int i = 0; i < known && variables != null; i++) {
+                if (links != null && links[i]) {
+                    variables[i] = null;
+                } else if (variables[i] != null) {
+                    variables[i].unset();
+                }
+            }
             known = 0;
             level = from.level + 1;
             caller = from;
@@ -907,6 +918,7 @@ public final class CommandCore {
             for (int i = 0; i < known && variables != null; i++) {
                 if (variables[i] != null) {
                     variables[i].text = null;
+                    variables[i] = null;
                 }
             }
             known = 0;
@@ -915,7 +927,7 @@ public final class CommandCore {
         /** The variable there as an object. */
         Variable variableAt(int i) {
             if (variables == null) {
-                variables = new Variable[MOST];
+                variables = new Variable[names.length];
             }
             if (variables[i] == null) {
                 variables[i] = new Variable(ofArray, texts[i]);
@@ -932,9 +944,6 @@ public final class CommandCore {
             makeRoom();
             names[known] = name;
             texts[known] = null;
-            if (variables != null) {
-                variables[known] = null;
-            }
             if (links != null) {
                 links[known] = false;
             }
@@ -943,20 +952,31 @@ public final class CommandCore {
         }
 
         private void makeRoom() {
-            if (known >= names.length) {
-                Text[] moreNames = new Text[MOST];
-                Text[] moreTexts = new Text[MOST];
-                System.arraycopy(names, 0, moreNames, 0, known);
-                System.arraycopy(texts, 0, moreTexts, 0, known);
-                names = moreNames;
-                texts = moreTexts;
+            if (known < names.length) {
+                return;
+            }
+            Text[] moreNames = new Text[MOST];
+            Text[] moreTexts = new Text[MOST];
+            System.arraycopy(names, 0, moreNames, 0, known);
+            System.arraycopy(texts, 0, moreTexts, 0, known);
+            names = moreNames;
+            texts = moreTexts;
+            if (variables != null) {
+                Variable[] moreVariables = new Variable[MOST];
+                System.arraycopy(variables, 0, moreVariables, 0, known);
+                variables = moreVariables;
+            }
+            if (links != null) {
+                boolean[] moreLinks = new boolean[MOST];
+                System.arraycopy(links, 0, moreLinks, 0, known);
+                links = moreLinks;
             }
         }
 
         /** Makes the name a link, if it may be one. */
         boolean link(Text name, Variable other, Scribe scribe) {
             if (links == null) {
-                links = new boolean[MOST];
+                links = new boolean[names.length];
             }
             int i = indexOf(name);
             if (i < 0) {
@@ -970,7 +990,7 @@ public final class CommandCore {
                 return false;
             }
             if (variables == null) {
-                variables = new Variable[MOST];
+                variables = new Variable[names.length];
             }
             variables[i] = other;
             links[i] = true;

@@ -6,7 +6,7 @@ import java.lang.management.ManagementFactory;
  */
 public final class RoomTest {
     /** One or two small objects for each of WORK: far less than the room has for all 150000. */
-    private static final long BYTES_FOR_WORK = 40;
+    private static final long BYTES_FOR_WORK = 30;
     /** For what is made once: rows that grow, and what Java itself makes at first. */
     private static final long BYTES_ONCE = 2000000;
 
@@ -18,6 +18,8 @@ public final class RoomTest {
         foreachOfArrayTakenAway();
         foreachOfArraysLinked();
         foreachOfLinkedElements();
+        arraysOfNewFrames();
+        elementsLinkedInNewFrames();
         callsWithManyParameters();
         listsOfParameters();
         manyOperands();
@@ -122,6 +124,21 @@ public final class RoomTest {
         small("foreach, an element linked", before, check.core);
     }
 
+    /** Each call has a new frame, in which each name is an array at once. */
+    private static void arraysOfNewFrames() {
+        long before = taken();
+        Check check = new Check();
+        check.meets("set l {" + arrays("") + "};proc p {} {global l;foreach $l {} i 1 {}};while 1 p", 1);
+        small("arrays of new frames", before, check.core);
+    }
+
+    private static void elementsLinkedInNewFrames() {
+        long before = taken();
+        Check check = new Check();
+        check.meets("set l {" + arrays(" y") + "};proc p {} {global l;upvar 0 {*}$l};while 1 p", 1);
+        small("elements linked in new frames", before, check.core);
+    }
+
     private static void callsWithManyParameters() {
         long before = taken();
         Check check = new Check();
@@ -157,6 +174,17 @@ public final class RoomTest {
             Check.due("run of a word beyond WORK", check.core.run(), -1);
         }
         Check.due("bytes of words beyond WORK", taken() - before < 300000, true);
+    }
+
+    /** An element of each of some fifty arrays, whose names have one byte. */
+    private static String arrays(String behind) {
+        StringBuilder names = new StringBuilder();
+        for (char c = 'A'; c <= 'w'; c++) {
+            if (Character.isLetter(c) && c != 'l' && c != 'i') {
+                names.append(c).append("()").append(behind).append(' ');
+            }
+        }
+        return names.toString();
     }
 
     private static String elements(String array, int number) {
