@@ -135,9 +135,13 @@ final class Check {
         return this;
     }
 
-    Check counts(int what, int number) {
-        due("count(" + what + ")", core.count(what), number);
+    int count(int what) {
         called(1);
+        return core.count(what);
+    }
+
+    Check counts(int what, int number) {
+        due("count(" + what + ")", count(what), number);
         return this;
     }
 
