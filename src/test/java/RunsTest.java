@@ -2,7 +2,10 @@ import java.nio.file.Files;
 import java.nio.file.Path;
 import java.util.List;
 
-/** Random runs whose answers were given by a second program, written from the document alone. */
+/**
+ * Random runs whose answers were given by a second program in another form (trees, recursion). Its
+ * author is that of the class, so that it finds slips, not wrong readings of the document.
+ */
 public final class RunsTest {
     public static void main(String[] args) throws Exception {
         List<String> lines = Files.readAllLines(Path.of("src/test/resources/runs.txt"));
